@@ -126,6 +126,22 @@ public final class ScanTest {
                 .feed(new StreamMarks());
         Check.same("20 kind 0", z.scan(), 0);
         Check.same("20 value of kind 0", z.get(34, 0, 0), 65280);
+
+        StreamMarks w = new Bytes().start(1, 1).set(42, 128).steps()
+                .segment(82, 1, 0, 0, 1, 0, 0, 4, 4, 0, 1, 18)
+                .segment(95, 1, 2, 3, 4, 5, 6, 1, 7, 8, 9, 10, 11, 12, 2)
+                .barePart(0, 0, 1).end().feed(new StreamMarks());
+        Check.same("20 told", w.scan(), 0);
+        Check.same("20 one bit", w.get(20, 0, 0), 1);
+        Check.same("20 signed", w.get(21, 0, 0), 1);
+        Check.same("20 not ahead", w.get(12, 0, 0), 0);
+        Check.same("20 not behind", w.get(13, 0, 0), 0);
+        Check.same("20 told pw", w.get(32, 0, 0), 2);
+        Check.same("20 told ph", w.get(33, 0, 0), 1);
+        int[] both = {1, 2, 772, 5, 6, 1, 7, 8, 2314, 11, 12, 2};
+        for (int i = 0; i < both.length; i++) {
+            Check.same("20 changes", w.get(40 + i % 6, i / 6, 0), both[i]);
+        }
     }
 
     /** Wherever the stream ends, the mark that lacks bytes is refused by 1. */

@@ -14,6 +14,7 @@ public final class StreamTest {
         at();
         writeSmall();
         writeOthers();
+        writeOneUnlike();
         writeScanned();
         writeRefused();
         full();
@@ -147,6 +148,50 @@ public final class StreamTest {
         checkBytes("16 told", y, told.toArray());
     }
 
+    /** A second component that differs from the first in one number. */
+    private static void writeOneUnlike() {
+        int[][] codings = {{2, 5, 5, 7}, {1, 4, 5, 7}, {1, 5, 4, 7}, {1, 5, 5, 6}, {1, 5, 5, 7}};
+        for (int[] c : codings) {
+            StreamMarks x = twoComponents();
+            x.coding(1, c[0], c[1], c[2], c[3], false);
+            int more = c[0] == 2 ? 11 + 13 : c[1] + c[2] + c[3] == 17 ? 0 : 11;
+            Check.same("16 unlike coding", x.write(), 48 + 14 + 9 + more);
+        }
+        StreamMarks exact = twoComponents();
+        exact.coding(1, 1, 5, 5, 7, true);
+        Check.same("16 unlike exact", exact.write(), 48 + 14 + 9 + 11);
+        int[][] exponents = {{0, 14, 15}, {0, 15, 14}, {1, 14, 15}, {1, 15, 14}};
+        for (int[] e : exponents) {
+            StreamMarks x = twoComponents();
+            x.precincts(1, e[0], e[1], e[2]);
+            Check.same("16 unlike precinct", x.write(), 48 + 14 + 9 + 13);
+            x.precincts(0, e[0], e[1], e[2]);
+            Check.same("16 like precinct", x.write(), 48 + 16 + 9);
+        }
+        int[][] steps = {{0, 3}, {1, 2}, {2, 2}};
+        for (int[] t : steps) {
+            StreamMarks x = twoComponents();
+            x.steps(1, t[0], t[1], 0);
+            int values = t[0] == 0 ? 4 : t[0] == 1 ? 2 : 8;
+            Check.same("16 unlike steps", x.write(), 48 + 14 + 9 + 6 + values);
+        }
+        for (int k = 0; k < 5; k++) {
+            StreamMarks x = twoComponents();
+            x.step(1, k, 256);
+            Check.same("16 unlike value", x.write(), 48 + 14 + 9 + (k < 4 ? 10 : 0));
+        }
+    }
+
+    private static StreamMarks twoComponents() {
+        StreamMarks x = new StreamMarks();
+        x.picture(0, 0, 4, 4);
+        for (int c = 0; c < 2; c++) {
+            x.component(8, false, 1, 1);
+            x.coding(c, 1, 5, 5, 7, false);
+        }
+        return x;
+    }
+
     /** What a scan read is written again, an end of 256 components as 0. */
     private static void writeScanned() {
         Bytes main = new Bytes().main(1, 1).segment(95, 0, 255, 255, 255, 33, 0, 4);
@@ -249,9 +294,9 @@ public final class StreamTest {
         Check.refuses("17 not scanned", STATE, () -> x.found(-1, 0));
         x.clear();
         x.part(65535, 254, 255, 65536);
-        x.part(258, 0, 0, 0);
+        x.part(258, 255, 0, 0);
         checkBytes("17", x, 255, 144, 0, 10, 255, 255, 0, 1, 0, 14, 254, 255, 255, 147,
-                255, 144, 0, 10, 1, 2, 0, 0, 0, 14, 0, 0, 255, 147);
+                255, 144, 0, 10, 1, 2, 0, 0, 0, 14, 255, 0, 255, 147);
     }
 
     private static void mark() {
