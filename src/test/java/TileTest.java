@@ -9,6 +9,7 @@ public final class TileTest {
         usePlans();
         useRefused();
         useAfterOtherPlans();
+        useLastTile();
         headsOfTiles();
         headsOfAll();
         headsOfAllEndEarly();
@@ -142,6 +143,35 @@ public final class TileTest {
         Check.same("22 x1", x.get(2, 0, 0), 12);
         Check.same("22 found as before", x.found(-1, 0), 3);
         Check.refuses("22 tiles of the stream", NONE, () -> x.use(3));
+    }
+
+    /** The 64th tile, with all that a plan may have of its own, of the 16th component. */
+    private static void useLastTile() {
+        Bytes all = new Bytes().main(64, 16);
+        for (int t = 0; t < 63; t++) {
+            all.barePart(t, 0, 1);
+        }
+        Bytes its = new Bytes().segment(94, 15, 0, 30).segment(93, 15, 97, 1, 2)
+                .segment(83, 15, 0, 3, 0, 0, 9, 0).segment(95, 0, 0, 0, 1, 1, 1, 2);
+        int place = all.size() + 12 + its.size();
+        Bytes twice = new Bytes().add(all).part(63, 14 + its.size() + 7, 0, 0).add(its)
+                .segment(94, 15, 0, 30).mark(147).end();
+        twice.refused("22 twice in the last tile", 4, place);
+        StreamMarks x = all.part(63, 14 + its.size() + 5, 0, 0).add(its).segment(97, 0).mark(147)
+                .end().feed(new StreamMarks());
+        Check.same("22 scan", x.scan(), 0);
+        Check.same("22 use(63)", x.use(63), 0);
+        int[] due = {3, 2, 2, 9, 0, 1, 3, 30};
+        for (int i = 0; i < due.length; i++) {
+            Check.same("22 last get(" + (24 + i) + ")", x.get(24 + i, 15, 0), due[i]);
+        }
+        Check.same("22 last value", x.get(34, 15, 0), 258);
+        Check.same("22 last change", x.get(45, 0, 0), 2);
+        Check.same("22 component 14", x.get(31, 14, 0), 0);
+        Check.same("22 use(62)", x.use(62), 0);
+        Check.same("22 tile 62 shift", x.get(31, 15, 0), 0);
+        Check.same("22 tile 62 changes", x.get(14, 0, 0), 0);
+        Check.refuses("22 use(64)", NONE, () -> x.use(64));
     }
 
     private static StreamMarks tileHeads() {
