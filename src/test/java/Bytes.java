@@ -3,6 +3,8 @@ import java.util.List;
 
 /** Builds a stream byte by byte, and feeds it to a new object. */
 final class Bytes {
+    private static final int OLD_WIDTH = 7777;
+
     private final List<Integer> row = new ArrayList<>();
 
     Bytes u1(int... numbers) {
@@ -27,6 +29,12 @@ final class Bytes {
     /** A segment whose length is as its bytes are. */
     Bytes segment(int m, int... bytes) {
         return mark(m).u2(2 + bytes.length).u1(bytes);
+    }
+
+    /** START and a SIZE of one component. */
+    Bytes startOf(long x0, long y0, long x1, long y1, long... tiles) {
+        mark(79).mark(81).u2(41).u2(0).u4(x1).u4(y1).u4(x0).u4(y0);
+        return u4(tiles[2]).u4(tiles[3]).u4(tiles[0]).u4(tiles[1]).u2(1).u1(7, 1, 1);
     }
 
     /** START and a SIZE of tiles of 4 by 4, side by side, with some components of 8 bits. */
@@ -94,19 +102,51 @@ final class Bytes {
         return array;
     }
 
+    /** By few calls, as an object is used for 512 at most: parts at once, all else byte by byte. */
     StreamMarks feed(StreamMarks x) {
         x.clear();
-        for (int b : row) {
-            x.put(b);
+        int k = 0;
+        while (k < row.size()) {
+            if (isPartWithoutSegments(k)) {
+                x.part(at2(k + 4), row.get(k + 10), row.get(k + 11), at2(k + 8) - 14);
+                k += 14;
+            } else {
+                x.put(row.get(k));
+                k++;
+            }
         }
         return x;
     }
 
-    /** The scan refuses this stream by a number, at a place. */
+    private int at2(int k) {
+        return 256 * row.get(k) + row.get(k + 1);
+    }
+
+    private boolean isPartWithoutSegments(int k) {
+        return k + 14 <= row.size() && at2(k) == 0xff90 && at2(k + 2) == 10 && at2(k + 6) == 0
+                && at2(k + 8) >= 14 && at2(k + 12) == 0xff93;
+    }
+
+    /** The scan refuses this stream by a number, at a place, and what is asked then is as before. */
     void refused(String what, int number, int place) {
-        StreamMarks x = feed(new StreamMarks());
+        StreamMarks x = new StreamMarks();
+        x.picture(0, 0, OLD_WIDTH, 1);
+        feed(x);
         Check.same(what + ": scan()", x.scan(), number);
         Check.same(what + ": place()", x.place(), place);
+        if (number == 0) {
+            Check.yes(what + ": another plan", x.get(2, 0, 0) != OLD_WIDTH);
+            Check.yes(what + ": parts", x.found(-1, 0) > 0);
+            return;
+        }
+        Check.same(what + ": the picture stays", x.get(2, 0, 0), OLD_WIDTH);
+        Check.same(what + ": no component", x.get(8, 0, 0), 0);
+        Check.same(what + ": the bytes stay", x.at(-1), row.size());
+        Check.refuses(what + ": found", IllegalStateException.class, () -> x.found(-1, 0));
+        Check.refuses(what + ": use", IllegalStateException.class, () -> x.use(0));
+        Check.refuses(what + ": head", IllegalStateException.class, () -> x.head(0, 0));
+        Check.same(what + ": place() then", x.place(), place);
+        Check.same(what + ": scan() again", x.scan(), number);
     }
 
     void accepted(String what) {

@@ -1,0 +1,126 @@
+/** The states that tests begin with; each is reached by far fewer than 512 calls. */
+final class Made {
+    /** How many bytes write() puts for the plans of small() and of great(). */
+    static final int SMALL_BYTES = 65;
+    static final int GREAT_BYTES = 2 + 88 + 47 + 199 + 15 * 44 + 15 * 200 + 16 * 7 + 228;
+    static final int MOST_BYTES = 65536;
+
+    private Made() {
+    }
+
+    static StreamMarks with(Use state) {
+        StreamMarks x = new StreamMarks();
+        state.on(x);
+        return x;
+    }
+
+    static void nothing(StreamMarks x) {
+    }
+
+    /** The least plan that can be written. */
+    static void small(StreamMarks x) {
+        x.picture(0, 0, 4, 4);
+        x.component(8, false, 1, 1);
+    }
+
+    /** A plan in which nothing is as in a new one, and a short stream that a scan refused at 2. */
+    static void rich(StreamMarks x) {
+        x.picture(3, 5, 30, 40);
+        x.tiles(2, 4, 10, 9);
+        x.component(8, false, 1, 1);
+        x.component(38, true, 255, 2);
+        x.general(3, 77, true, false, true);
+        x.coding(1, 4, 5, 7, 33, false);
+        x.precincts(1, 2, 3, 4);
+        x.precincts(1, 32, 5, 6);
+        x.steps(1, 2, 5, 17);
+        x.step(1, 12, 40000);
+        x.step(1, 96, 1);
+        x.change(1, 0, 9, 5, 2, 4);
+        x.change(0, 1, 3, 33, 16, 2);
+        x.mark(79);
+        x.put(7);
+        x.scan();
+    }
+
+    /** Two components, two tiles, three parts, heads, and segments of a tile. */
+    static Bytes streamOfTwoTiles() {
+        Bytes own = new Bytes().segment(94, 1, 0, 9).segment(97, 0, 10, 11)
+                .segment(95, 0, 0, 0, 7, 3, 2, 1);
+        return new Bytes().main(2, 2).segment(83, 1, 1, 1, 3, 3, 5, 0, 18, 52)
+                .segment(93, 0, 98, 1, 2).part(1, 14 + own.size(), 0, 2).add(own).mark(147)
+                .barePart(0, 0, 0).part(1, 16, 1, 0).mark(147).u1(21, 22).end();
+    }
+
+    /** A scanned stream; the plan is that of its tile 1, but for the order and layers. */
+    static void scanned(StreamMarks x) {
+        streamOfTwoTiles().feed(x);
+        x.scan();
+        x.use(1);
+        x.general(4, 44, true, true, true);
+    }
+
+    /** The same, with heads of all. */
+    static void scannedHeadsOfAll(StreamMarks x) {
+        new Bytes().main(2, 1).segment(96, 0, 0, 0, 0, 2, 31, 32, 0, 0, 0, 1, 33)
+                .barePart(1, 0, 0).barePart(0, 0, 0).end().feed(x);
+        x.scan();
+    }
+
+    /** 16 components, 32 changes, and of each as much as can be. */
+    static void great(StreamMarks x) {
+        x.picture(0, 0, 4, 4);
+        for (int c = 0; c < 16; c++) {
+            x.component(8, false, 1, 1);
+            x.coding(c, 32, 6, 6, c, true);
+            x.precincts(c, 32, 1, 1);
+            x.steps(c, 2, c & 7, 1 + c);
+            x.step(c, 96, c);
+        }
+        for (int n = 0; n < 32; n++) {
+            x.change(0, 0, 1, 1, 1, 0);
+        }
+    }
+
+    /** A stream of so many bytes, and the great plan. */
+    static void filledTo(StreamMarks x, int size) {
+        great(x);
+        fillUp(x, size);
+    }
+
+    private static void fillUp(StreamMarks x, int size) {
+        while (x.at(-1) + GREAT_BYTES <= size) {
+            x.write();
+        }
+        while (x.at(-1) + 14 <= size) {
+            x.part(0, 0, 0, 0);
+        }
+        while (x.at(-1) < size) {
+            x.put(0);
+        }
+    }
+
+    static void full(StreamMarks x) {
+        filledTo(x, MOST_BYTES);
+    }
+
+    /** As many bytes as can be, which a scan takes. */
+    static void fullAndScanned(StreamMarks x) {
+        great(x);
+        x.write();
+        x.part(0, 0, 0, MOST_BYTES - GREAT_BYTES - 14 - 2);
+        fillUp(x, MOST_BYTES - 2);
+        x.mark(217);
+        x.scan();
+    }
+
+    /** So many bytes, which a scan takes. */
+    static void scannedOf(StreamMarks x, int size) {
+        great(x);
+        x.write();
+        x.part(0, 0, 0, 0);
+        x.mark(217);
+        fillUp(x, size);
+        x.scan();
+    }
+}
