@@ -89,13 +89,14 @@ final class Made {
     }
 
     private static void fillUp(StreamMarks x, int size) {
-        while (x.at(-1) + GREAT_BYTES <= size) {
+        int left = size - x.at(-1);
+        for (; left >= GREAT_BYTES; left -= GREAT_BYTES) {
             x.write();
         }
-        while (x.at(-1) + 14 <= size) {
+        for (; left >= 14; left -= 14) {
             x.part(0, 0, 0, 0);
         }
-        while (x.at(-1) < size) {
+        for (; left > 0; left--) {
             x.put(0);
         }
     }

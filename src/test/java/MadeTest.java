@@ -20,8 +20,8 @@ public final class MadeTest {
 
     static void scannedOnesWereTaken() {
         Use[] states = {Made::scanned, Made::scannedHeadsOfAll, Made::fullAndScanned,
-            x -> Made.scannedOf(x, 65000)};
-        int[] sizes = {Made.streamOfTwoTiles().size(), 65 + 16 + 28 + 2, 65536, 65000};
+            x -> Made.scannedOf(x, 65436)};
+        int[] sizes = {Made.streamOfTwoTiles().size(), 65 + 16 + 28 + 2, 65536, 65436};
         int[] parts = {3, 2, 1, 1};
         for (int i = 0; i < states.length; i++) {
             StreamMarks x = Made.with(states[i]);

@@ -83,6 +83,18 @@ public final class Promise16WriteTest {
         }, due);
     }
 
+    /** Each number of the picture and the tiles at its own place, over all four bytes. */
+    static void theNumbersOfSizeInTheirOrder() {
+        Bytes due = new Bytes().mark(79).mark(81).u2(41).u2(0).u4(0x51627384).u4(0x61728394)
+                .u4(0x11223344).u4(0x21324354).u4(0x51525354).u4(0x61626364).u4(0x01020304)
+                .u4(0x05060708).u2(1).u1(139, 3, 4).coding().steps();
+        written("eight numbers", x -> {
+            x.picture(0x11223344, 0x21324354, 0x51627384, 0x61728394);
+            x.tiles(0x01020304, 0x05060708, 0x51525354, 0x61626364);
+            x.component(12, true, 3, 4);
+        }, due);
+    }
+
     static void generalNumbers() {
         written("most", x -> {
             Made.small(x);

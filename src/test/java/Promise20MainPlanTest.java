@@ -131,6 +131,38 @@ public final class Promise20MainPlanTest {
         }
     }
 
+    /** Of a component too, whatever stands behind its segment, and with more told for all. */
+    static void itsValuesThatAreNotTold() {
+        Bytes all = new Bytes().u1(66);
+        for (int k = 0; k < 97; k++) {
+            all.u2(500 + k);
+        }
+        int[][] its = {{1, 0, 7, 8, 9, 10}, {1, 1, 2, 3}, {1, 2, 0, 7, 0, 8, 0, 9, 0, 10}};
+        int[][] due = {{1792, 2048, 2304, 2560}, {515}, {7, 8, 9, 10}};
+        for (int kind = 0; kind <= 2; kind++) {
+            StreamMarks x = scanned(new Bytes().start(1, 2).segment(92, all.toArray())
+                    .segment(93, its[kind]).coding());
+            for (int k = 0; k <= 96; k++) {
+                int told = k < due[kind].length ? due[kind][k] : 0;
+                Check.same("kind " + kind + " value " + k, x.get(34, 1, k), told);
+            }
+            Check.same("of the other", x.get(34, 0, 96), 596);
+        }
+    }
+
+    /** 97 values of a component, and one of all others. */
+    static void allOfItsValues() {
+        Bytes its = new Bytes().u1(1, 66);
+        for (int k = 0; k < 97; k++) {
+            its.u2(65535 - k);
+        }
+        StreamMarks x = scanned(new Bytes().main(1, 2).segment(93, its.toArray()));
+        for (int k = 0; k <= 96; k++) {
+            Check.same("value " + k, x.get(34, 1, k), 65535 - k);
+        }
+        Check.same("of the other", x.get(34, 0, 96), 0);
+    }
+
     static void signedIsTheHighestBit() {
         int[][] due = {{0, 1, 0}, {37, 38, 0}, {128, 1, 1}, {165, 38, 1}};
         for (int[] d : due) {
@@ -139,6 +171,21 @@ public final class Promise20MainPlanTest {
             Check.same("signed", x.get(21, 1, 0), d[2]);
             Check.same("of the other", x.get(20, 0, 0), 8);
         }
+    }
+
+    /** Each number of SIZE at its own place, over all four bytes; steps of components, too. */
+    static void theNumbersOfSizeInTheirOrder() {
+        StreamMarks x = scanned(new Bytes().mark(79).mark(81).u2(44).u2(65535).u4(0x51627384)
+                .u4(0x61728394).u4(0x11223344).u4(0x21324354).u4(0x51525354).u4(0x61626364)
+                .u4(0x01020304).u4(0x05060708).u2(2).u1(0, 1, 255).u1(165, 255, 2).coding()
+                .steps());
+        int[] due = {0x11223344, 0x21324354, 0x51627384, 0x61728394, 0x01020304, 0x05060708,
+            0x51525354, 0x61626364, 2};
+        for (int what = 0; what < due.length; what++) {
+            Check.same("get(" + what + ")", x.get(what, 0, 0), due[what]);
+        }
+        check("component", x, 0, 1, 0, 1, 255);
+        check("component", x, 1, 38, 1, 255, 2);
     }
 
     static void shiftsOfTheLeastAndGreatest() {

@@ -178,6 +178,8 @@ public final class Promise20ValueTest {
         coding(5, 3, 0);
         coding(0, 3, 1);
         coding(0, 3, 255);
+        Spot.both("0 with colour", 5, 82, 0, 0, 0, 0, 1, 0, 4, 4, 0, 1);
+        Spot.both("0 of order 1", 5, 82, 0, 1, 0, 0, 0, 0, 4, 4, 0, 1);
     }
 
     static void colourIsZeroOrOne() {
@@ -246,6 +248,28 @@ public final class Promise20ValueTest {
         for (int[] e : cases) {
             Spot.both("exponents", e[0], 82, 1, 0, 0, 1, 0, 2, 4, 4, 0, 1, e[1], e[2], e[3]);
             Spot.both("its exponents", e[0], 83, 1, 1, 2, 4, 4, 0, 1, e[1], e[2], e[3]);
+        }
+        int[][] ofOneLevel = {{0, 0, 17}, {0, 0, 255}, {5, 255, 16}, {5, 255, 1}, {5, 0, 0}};
+        for (int[] e : ofOneLevel) {
+            Spot.both("exponents", e[0], 82, 1, 0, 0, 1, 0, 1, 4, 4, 0, 1, e[1], e[2]);
+            Spot.both("its exponents", e[0], 83, 1, 1, 1, 4, 4, 0, 1, e[1], e[2]);
+        }
+    }
+
+    /** Up to the last of 32 levels. */
+    static void exponentsOfTheLastLevelAreNotZero() {
+        int[] last = {17, 16, 1, 0};
+        for (int e : last) {
+            Bytes precincts = new Bytes();
+            for (int r = 0; r < 32; r++) {
+                precincts.u1(r == 0 ? 0 : 255);
+            }
+            precincts.u1(e);
+            int number = e == 17 ? 0 : 5;
+            Spot.both("the last", number, 82, new Bytes().u1(1, 0, 0, 1, 0, 32, 4, 4, 0, 1)
+                    .add(precincts).toArray());
+            Spot.both("its last", number, 83, new Bytes().u1(1, 1, 32, 4, 4, 0, 1)
+                    .add(precincts).toArray());
         }
     }
 

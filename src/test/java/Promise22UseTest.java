@@ -186,6 +186,25 @@ public final class Promise22UseTest {
         }
     }
 
+    /** The same of the tile's segments for one component. */
+    static void whatTheTileDoesNotTellOfOne() {
+        Bytes main = new Bytes().start(2, 2)
+                .segment(82, 1, 0, 0, 1, 0, 2, 4, 4, 0, 1, 17, 17, 17)
+                .segment(92, 66, 0, 1, 0, 2, 0, 3, 0, 4);
+        StreamMarks x = ofTile1(main, new Bytes().segment(83, 1, 0, 2, 4, 4, 0, 1)
+                .segment(93, 1, 66, 0, 9));
+        x.use(1);
+        for (int r = 0; r <= 32; r++) {
+            Check.same("pw", x.get(32, 1, r), 15);
+            Check.same("ph", x.get(33, 1, r), 15);
+            Check.same("pw of the other", x.get(32, 0, r), r <= 2 ? 1 : 15);
+        }
+        for (int k = 0; k <= 96; k++) {
+            Check.same("value " + k, x.get(34, 1, k), k == 0 ? 9 : 0);
+            Check.same("value " + k + " of the other", x.get(34, 0, k), k <= 3 ? k + 1 : 0);
+        }
+    }
+
     /** "a SHIFT of the tile instead of the main one of that component" */
     static void aShiftOfTheTile() {
         Bytes main = new Bytes().main(2, 3).segment(94, 0, 0, 5).segment(94, 1, 0, 6);

@@ -192,5 +192,28 @@ public final class Promise23HeadTest {
         Check.same("scan", x.scan(), 0);
         Check.same("use(1)", x.use(1), 2);
         Check.same("head(1, 0)", x.head(1, 0), 10);
+        ofAll(0, 0, 0, 1, 4, 0, 0, 0, 1, 5).feed(x);
+        Check.same("scan", x.scan(), 0);
+        Check.same("use(1)", x.use(1), 1);
+        Check.same("head(1, 0)", x.head(1, 0), 4);
+        Check.same("head(0, 0)", x.head(0, 0), 5);
+    }
+
+    /** Each scan deals them anew. */
+    static void scannedTwice() {
+        Twin.streamStays("97", x -> Check.same("scan", x.scan(), 0), Made::scanned);
+        Twin.streamStays("96", x -> Check.same("scan", x.scan(), 0), Made::scannedHeadsOfAll);
+    }
+
+    /** The scan before was refused behind heads that it had read. */
+    static void nothingOfARefusedScan() {
+        StreamMarks x = ofAll(0, 0, 0, 1, 4, 0, 0, 0, 1, 5).feed(new StreamMarks());
+        x.spoil(x.at(-1) - 1, 216);
+        Check.same("refused", x.scan(), 1);
+        x.spoil(x.at(-1) - 1, 217);
+        Check.same("taken", x.scan(), 0);
+        Check.same("use(1)", x.use(1), 1);
+        Check.same("head(1, 0)", x.head(1, 0), 4);
+        Check.same("head(0, 0)", x.head(0, 0), 5);
     }
 }
