@@ -57,6 +57,16 @@ public final class Promise20MissingTest {
         }
     }
 
+    /** With SPAN 0 the bytes go up to the last two: what looks like a part there is none. */
+    static void aPartThatIsBytesOfAnother() {
+        new Bytes().main(2, 1).part(0, 0, 0, 0).mark(147).barePart(1, 0, 0).end()
+                .refused("span 0", 6, 65 + 28);
+        new Bytes().main(2, 1).part(0, 28, 0, 0).mark(147).barePart(1, 0, 0).end()
+                .refused("span over both", 6, 65 + 28);
+        new Bytes().main(2, 1).part(0, 14, 0, 0).mark(147).barePart(1, 0, 0).end()
+                .accepted("span 14");
+    }
+
     static void aPartOfEachOf64Tiles() {
         for (int missing = 62; missing <= 64; missing++) {
             Bytes x = new Bytes().main(64, 1);
