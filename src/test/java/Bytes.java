@@ -102,20 +102,44 @@ final class Bytes {
         return array;
     }
 
-    /** By few calls, as an object is used for 512 at most: parts at once, all else byte by byte. */
-    StreamMarks feed(StreamMarks x) {
+    /** By few calls, as an object is used for 512 at most: parts and marks at once. */
+    <X extends Face> X feed(X x) {
         x.clear();
-        int k = 0;
-        while (k < row.size()) {
-            if (isPartWithoutSegments(k)) {
-                x.part(at2(k + 4), row.get(k + 10), row.get(k + 11), at2(k + 8) - 14);
-                k += 14;
-            } else {
-                x.put(row.get(k));
-                k++;
+        return feedMore(x);
+    }
+
+    /** Behind what is there. */
+    <X extends Face> X feedMore(X x) {
+        for (int k = 0; k < row.size(); k += bytesAtOnce(k)) {
+            switch (bytesAtOnce(k)) {
+                case 14:
+                    x.part(at2(k + 4), row.get(k + 10), row.get(k + 11), at2(k + 8) - 14);
+                    break;
+                case 2:
+                    x.mark(row.get(k + 1));
+                    break;
+                default:
+                    x.put(row.get(k));
+                    break;
             }
         }
         return x;
+    }
+
+    /** How many calls feed() needs. */
+    int calls() {
+        int calls = 1;
+        for (int k = 0; k < row.size(); k += bytesAtOnce(k)) {
+            calls++;
+        }
+        return calls;
+    }
+
+    private int bytesAtOnce(int k) {
+        if (isPartWithoutSegments(k)) {
+            return 14;
+        }
+        return k + 1 < row.size() && row.get(k) == 255 ? 2 : 1;
     }
 
     private int at2(int k) {
@@ -127,9 +151,9 @@ final class Bytes {
                 && at2(k + 8) >= 14 && at2(k + 12) == 0xff93;
     }
 
-    /** The scan refuses this stream by a number, at a place, and what is asked then is as before. */
+    /** The scan refuses this stream by a number, at a place, and what is asked is as before. */
     void refused(String what, int number, int place) {
-        StreamMarks x = new StreamMarks();
+        Counted x = new Counted();
         x.picture(0, 0, OLD_WIDTH, 1);
         feed(x);
         Check.same(what + ": scan()", x.scan(), number);

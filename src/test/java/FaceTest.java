@@ -47,6 +47,9 @@ public final class FaceTest {
         6, 7, 8, 10, 12, 14, 15, 16, 17, 32, 33, 37, 38, 64, 79, 81, 82, 96, 97, 144, 217, 255,
         256, 65535, 65536, 2147483647};
 
+    /** How many calls are left for questions behind the calls of any kind. */
+    private static final int QUESTIONS = 102;
+
     public static void main(String[] args) throws ReflectiveOperationException {
         members();
         classesInside();
@@ -116,79 +119,106 @@ public final class FaceTest {
         }
     }
 
-    /** 512 calls: what throws is what the method names, by a throw of its own, and changes nothing. */
+    /**
+     * Calls of any kind: what throws is what the method names, by a throw of its own, and changes
+     * nothing: a twin that never has such a call answers all others alike.
+     */
     private static void anyCalls(int seed) throws ReflectiveOperationException {
         Random random = new Random(seed);
-        Method[] all = StreamMarks.class.getMethods();
+        List<Method> face = faceInOrder();
+        StreamMarks x = new StreamMarks();
+        StreamMarks twin = new StreamMarks();
+        int calls = 0;
+        if (seed % 2 == 0) {
+            calls = scanned(x);
+            scanned(twin);
+        }
+        for (; calls < Counted.MOST_CALLS - QUESTIONS; calls++) {
+            Method m = face.get(random.nextInt(face.size()));
+            // Else most runs would have neither a plan nor a stream for long.
+            boolean empties = m.getName().equals("plan") || m.getName().equals("clear");
+            if (!empties || random.nextInt(8) == 0) {
+                callBoth(x, twin, m, anyNumbers(m, random));
+            }
+        }
+        askBoth(x, twin);
+    }
+
+    private static List<Method> faceInOrder() {
         List<Method> face = new ArrayList<>();
-        for (Method m : all) {
+        for (Method m : StreamMarks.class.getMethods()) {
             if (m.getDeclaringClass() == StreamMarks.class) {
                 face.add(m);
             }
         }
         face.sort((a, b) -> signature(a).compareTo(signature(b)));
-        StreamMarks x = new StreamMarks();
-        if (seed % 2 == 0) {
-            new Bytes().main(2, 2).segment(96, 0, 0, 0, 0, 1, 7).barePart(1, 0, 0)
-                    .barePart(0, 0, 1).end().feed(x);
-            x.scan();
-        }
-        for (int n = 0; n < 512; n++) {
-            Method m = face.get(random.nextInt(face.size()));
-            // Else most runs would have neither a plan nor a stream for long.
-            boolean empties = m.getName().equals("plan") || m.getName().equals("clear");
-            if (empties && random.nextInt(8) != 0) {
-                continue;
-            }
-            call(x, m, random);
-        }
+        return face;
     }
 
-    private static void call(StreamMarks x, Method m, Random random)
-            throws ReflectiveOperationException {
+    /** How many calls it took. */
+    private static int scanned(StreamMarks x) {
+        int[] bytes = new Bytes().main(2, 2).segment(96, 0, 0, 0, 0, 1, 7).barePart(1, 0, 0)
+                .barePart(0, 0, 1).end().toArray();
+        for (int b : bytes) {
+            x.put(b);
+        }
+        x.scan();
+        return bytes.length + 1;
+    }
+
+    private static Object[] anyNumbers(Method m, Random random) {
         Object[] numbers = new Object[m.getParameterCount()];
         for (int i = 0; i < numbers.length; i++) {
             boolean truth = m.getParameterTypes()[i] == boolean.class;
             int edge = EDGES[random.nextInt(EDGES.length)];
             numbers[i] = truth ? (Object) random.nextBoolean() : (Object) edge;
         }
-        List<Integer> before = state(x);
-        try {
-            m.invoke(x, numbers);
-        } catch (InvocationTargetException e) {
-            Throwable cause = e.getCause();
-            String what = signature(m) + Arrays.toString(numbers) + " threw " + cause;
-            Check.yes(what, exceptions(m).contains(cause.getClass().getSimpleName()));
-            StackTraceElement[] trace = cause.getStackTrace();
-            Check.yes(what + " by its own throw", trace.length > 0
-                    && trace[0].getClassName().equals("StreamMarks"));
-            Check.yes(what + " and changed something", before.equals(state(x)));
-        }
+        return numbers;
     }
 
-    private static List<Integer> state(StreamMarks x) {
-        List<Integer> all = new ArrayList<>();
-        for (int what = 0; what < 15; what++) {
-            all.add(x.get(what, 0, 0));
+    private static void callBoth(StreamMarks x, StreamMarks twin, Method m, Object... numbers)
+            throws ReflectiveOperationException {
+        String what = signature(m) + Arrays.toString(numbers);
+        Object got;
+        try {
+            got = m.invoke(x, numbers);
+        } catch (InvocationTargetException e) {
+            checkThrown(what, m, e.getCause());
+            return;
         }
-        for (int c = 0; c < x.get(8, 0, 0); c++) {
-            for (int what = 20; what < 35; what++) {
-                for (int b = 0; b < (what < 32 ? 1 : what < 34 ? 33 : 97); b++) {
-                    all.add(x.get(what, c, b));
-                }
-            }
+        String due;
+        try {
+            due = String.valueOf(m.invoke(twin, numbers));
+        } catch (InvocationTargetException e) {
+            due = "threw " + e.getCause();
         }
-        for (int a = 0; a < x.get(14, 0, 0); a++) {
-            for (int what = 40; what < 46; what++) {
-                all.add(x.get(what, a, 0));
-            }
+        Check.sameText(what, String.valueOf(got), due);
+    }
+
+    private static void checkThrown(String what, Method m, Throwable thrown) {
+        Check.yes(what + " threw " + thrown,
+                exceptions(m).contains(thrown.getClass().getSimpleName()));
+        StackTraceElement[] trace = thrown.getStackTrace();
+        Check.yes(what + " by its own throw", trace.length > 0
+                && trace[0].getClassName().equals("StreamMarks"));
+    }
+
+    /** At most QUESTIONS of them. */
+    private static void askBoth(StreamMarks x, StreamMarks twin)
+            throws ReflectiveOperationException {
+        Method get = StreamMarks.class.getMethod("get", int.class, int.class, int.class);
+        Method at = StreamMarks.class.getMethod("at", int.class);
+        for (int what = 0; what < 46; what++) {
+            callBoth(x, twin, get, what, 0, 0);
         }
-        for (int k = -1; k < Math.min(x.at(-1), 2000); k++) {
-            all.add(x.at(k));
+        for (int k = -1; k < 20; k++) {
+            callBoth(x, twin, at, k);
         }
-        all.add(x.place());
-        boolean scanned = Check.nameOfThrown(() -> x.found(-1, 0)).equals("nothing");
-        all.add(scanned ? x.found(-1, 0) : -1);
-        return all;
+        callBoth(x, twin, StreamMarks.class.getMethod("place"));
+        callBoth(x, twin, StreamMarks.class.getMethod("found", int.class, int.class), -1, 0);
+        callBoth(x, twin, StreamMarks.class.getMethod("use", int.class), 0);
+        for (int what = 0; what < 32; what++) {
+            callBoth(x, twin, get, what, 0, 0);
+        }
     }
 }

@@ -8,23 +8,23 @@ final class Made {
     private Made() {
     }
 
-    static StreamMarks with(Use state) {
-        StreamMarks x = new StreamMarks();
+    static Counted with(Use state) {
+        Counted x = new Counted();
         state.on(x);
         return x;
     }
 
-    static void nothing(StreamMarks x) {
+    static void nothing(Counted x) {
     }
 
     /** The least plan that can be written. */
-    static void small(StreamMarks x) {
+    static void small(Counted x) {
         x.picture(0, 0, 4, 4);
         x.component(8, false, 1, 1);
     }
 
     /** A plan in which nothing is as in a new one, and a short stream that a scan refused at 2. */
-    static void rich(StreamMarks x) {
+    static void rich(Counted x) {
         x.picture(3, 5, 30, 40);
         x.tiles(2, 4, 10, 9);
         x.component(8, false, 1, 1);
@@ -53,7 +53,7 @@ final class Made {
     }
 
     /** A scanned stream; the plan is that of its tile 1, but for the order and layers. */
-    static void scanned(StreamMarks x) {
+    static void scanned(Counted x) {
         streamOfTwoTiles().feed(x);
         x.scan();
         x.use(1);
@@ -61,14 +61,14 @@ final class Made {
     }
 
     /** The same, with heads of all. */
-    static void scannedHeadsOfAll(StreamMarks x) {
+    static void scannedHeadsOfAll(Counted x) {
         new Bytes().main(2, 1).segment(96, 0, 0, 0, 0, 2, 31, 32, 0, 0, 0, 1, 33)
                 .barePart(1, 0, 0).barePart(0, 0, 0).end().feed(x);
         x.scan();
     }
 
     /** 16 components, 32 changes, and of each as much as can be. */
-    static void great(StreamMarks x) {
+    static void great(Counted x) {
         x.picture(0, 0, 4, 4);
         for (int c = 0; c < 16; c++) {
             x.component(8, false, 1, 1);
@@ -83,12 +83,12 @@ final class Made {
     }
 
     /** A stream of so many bytes, and the great plan. */
-    static void filledTo(StreamMarks x, int size) {
+    static void filledTo(Counted x, int size) {
         great(x);
         fillUp(x, size);
     }
 
-    private static void fillUp(StreamMarks x, int size) {
+    private static void fillUp(Counted x, int size) {
         int left = size - x.at(-1);
         for (; left >= GREAT_BYTES; left -= GREAT_BYTES) {
             x.write();
@@ -101,12 +101,12 @@ final class Made {
         }
     }
 
-    static void full(StreamMarks x) {
+    static void full(Counted x) {
         filledTo(x, MOST_BYTES);
     }
 
     /** As many bytes as can be, which a scan takes. */
-    static void fullAndScanned(StreamMarks x) {
+    static void fullAndScanned(Counted x) {
         great(x);
         x.write();
         x.part(0, 0, 0, MOST_BYTES - GREAT_BYTES - 14 - 2);
@@ -115,8 +115,42 @@ final class Made {
         x.scan();
     }
 
+    /**
+     * Main segments, and behind them 256 segments of heads (96; or 97, in a part of SPAN 0): as
+     * 512 calls could not put them byte by byte, they are values of the steps that write() puts
+     * again and again. What it puts around them is in segments 100.
+     */
+    static void manyHeads(Counted x, int m) {
+        x.picture(0, 0, 4, 4);
+        x.component(8, false, 1, 1);
+        x.coding(0, 32, 6, 6, 0, true);
+        x.steps(0, 2, 2, 0);
+        for (int n = 0; n < 32; n++) {
+            x.step(0, 3 * n, 0xff00 + m);
+            x.step(0, 3 * n + 1, 4);
+            x.step(0, 3 * n + 2, 256 * n + 100 + n);
+        }
+        x.step(0, 96, 0xff00 + 100);
+        int size = x.write();
+        int ahead = size - 2 * 97;
+        if (m == 97) {
+            new Bytes().part(0, 0, 0, 0).feedMore(x);
+            size += 12;
+        }
+        x.mark(100);
+        size += 2;
+        for (int round = 0; round < 8; round++) {
+            new Bytes().u2(2 + ahead).feedMore(x);
+            size += 2 + x.write();
+            for (int n = 0; n < 32 && round > 0; n++) {
+                x.spoil(size - 2 * 97 + 6 * n + 4, 32 * round + n);
+            }
+        }
+        new Bytes().u2(2).feedMore(x);
+    }
+
     /** So many bytes, which a scan takes. */
-    static void scannedOf(StreamMarks x, int size) {
+    static void scannedOf(Counted x, int size) {
         great(x);
         x.write();
         x.part(0, 0, 0, 0);

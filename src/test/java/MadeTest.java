@@ -12,7 +12,7 @@ public final class MadeTest {
     }
 
     static void richWasRefused() {
-        StreamMarks x = Made.with(Made::rich);
+        Counted x = Made.with(Made::rich);
         Check.same("place", x.place(), 2);
         Check.same("bytes", x.at(-1), 3);
         Check.refuses("found", IllegalStateException.class, () -> x.found(-1, 0));
@@ -24,7 +24,7 @@ public final class MadeTest {
         int[] sizes = {Made.streamOfTwoTiles().size(), 65 + 16 + 28 + 2, 65536, 65436};
         int[] parts = {3, 2, 1, 1};
         for (int i = 0; i < states.length; i++) {
-            StreamMarks x = Made.with(states[i]);
+            Counted x = Made.with(states[i]);
             Check.same("parts", x.found(-1, 0), parts[i]);
             Check.same("bytes of state " + i, x.at(-1), sizes[i]);
             Check.same("place", x.place(), -1);
@@ -34,7 +34,7 @@ public final class MadeTest {
     static void filledOnesHaveTheirSize() {
         int[] sizes = {65536, 65535, 65522, 65471, 5000};
         for (int size : sizes) {
-            StreamMarks x = new StreamMarks();
+            Counted x = new Counted();
             Made.filledTo(x, size);
             Check.same("bytes", x.at(-1), size);
         }

@@ -7,13 +7,9 @@ import java.util.Random;
 public final class ModelTest {
     private static final int STREAMS = 60000;
     private static final int PLANS = 4000;
-    private static final int[] ANY_MARK = {0, 255, 48, 63, 79, 81, 82, 83, 85, 87, 88, 92, 93, 94,
-        95, 96, 97, 99, 100, 144, 146, 147, 217, 7};
+    private static final int MOST_TILES = 64;
 
     private final Random random;
-    /** How often, in a thousand, a number is a wrong one. */
-    private int spoiled;
-    private int components;
 
     private ModelTest(long seed) {
         random = new Random(seed);
@@ -21,15 +17,21 @@ public final class ModelTest {
 
     public static void main(String[] args) {
         int[] seen = new int[8];
-        StreamMarks one = new StreamMarks();
+        int tooLong = 0;
+        Counted x = new Counted();
         for (int n = 0; n < STREAMS; n++) {
-            ModelTest test = new ModelTest(n);
-            int[] stream = test.stream();
-            // The same object now and then, so that nothing of an earlier scan may stay.
-            StreamMarks x = n % 2 == 0 ? one : new StreamMarks();
-            seen[compare("stream " + n, x, stream)]++;
+            Bytes stream = MadeUp.stream(n);
+            // The same object again if it may, so that nothing of an earlier scan may stay.
+            int calls = stream.calls() + 1 + MOST_TILES;
+            x = n % 2 == 0 && calls <= x.callsLeft() ? x : new Counted();
+            if (calls <= x.callsLeft()) {
+                stream.feed(x);
+                seen[compare("stream " + n, x, new Model(stream.toArray()))]++;
+            } else {
+                tooLong++;
+            }
         }
-        System.out.println("numbers seen: " + Arrays.toString(seen));
+        System.out.println("numbers seen: " + Arrays.toString(seen) + ", too long: " + tooLong);
         for (int number = 0; number < 8; number++) {
             Check.yes("number " + number + " was seen often", seen[number] > 100);
         }
@@ -39,12 +41,7 @@ public final class ModelTest {
         Check.end("ModelTest");
     }
 
-    private static int compare(String when, StreamMarks x, int[] stream) {
-        x.clear();
-        for (int b : stream) {
-            x.put(b);
-        }
-        Model model = new Model(stream);
+    private static int compare(String when, Counted x, Model model) {
         int[] before = allOf(x);
         Check.same(when + " scan()", x.scan(), model.number);
         Check.same(when + " place()", x.place(), model.place);
@@ -52,6 +49,11 @@ public final class ModelTest {
             Check.yes(when + " the plan stays", Arrays.equals(before, allOf(x)));
             return model.number;
         }
+        compareScanned(when, x, model);
+        return 0;
+    }
+
+    private static void compareScanned(String when, Counted x, Model model) {
         Check.yes(when + " main plan", Arrays.equals(allOf(x), model.plan(-1)));
         Check.same(when + " found(-1)", x.found(-1, 0), model.parts.size());
         for (int k = 0; k < model.parts.size(); k++) {
@@ -67,11 +69,10 @@ public final class ModelTest {
                 Check.same(when + " head", x.head(tile, i), heads[i]);
             }
         }
-        return 0;
     }
 
     /** All that get() answers, in the order of Model.plan(). */
-    private static int[] allOf(StreamMarks x) {
+    private static int[] allOf(Counted x) {
         List<Integer> all = new ArrayList<>();
         for (int what = 0; what < 15; what++) {
             all.add(x.get(what, 0, 0));
@@ -103,208 +104,9 @@ public final class ModelTest {
         return below(n) == 0;
     }
 
-    /** A number from .. to, or, seldom, some byte. */
-    private int number(int from, int to) {
-        return below(1000) < spoiled ? below(256) : from + below(to - from + 1);
-    }
-
-    private int[] stream() {
-        spoiled = oneIn(2) ? 0 : oneIn(2) ? 5 : 40;
-        components = oneIn(30) ? 17 : oneIn(20) ? 16 : 1 + below(3);
-        int across = 1 + below(3);
-        int down = oneIn(40) ? 65 : 1 + below(2);
-        Bytes x = new Bytes().mark(number(79, 79)).add(size(across, down));
-        boolean packed = oneIn(3);
-        List<Bytes> main = new ArrayList<>();
-        for (int mark : new int[] {82, 92, 83, 93, 94, 95, 83, 94, 100, 99}) {
-            if (mark == 82 || mark == 92 ? !oneIn(40) : oneIn(3)) {
-                main.add(segment(mark, 0));
-            }
-            if (below(1000) < spoiled) {
-                main.add(segment(ANY_MARK[below(ANY_MARK.length)], 0));
-            }
-        }
-        for (Bytes segment : shuffled(main)) {
-            x.add(segment);
-        }
-        for (int n = 0; packed && n < 1 + below(3); n++) {
-            x.add(segment(96, n));
-        }
-        addParts(x, across * down, packed);
-        x.mark(number(217, 217));
-        return spoil(x);
-    }
-
-    private List<Bytes> shuffled(List<Bytes> row) {
-        java.util.Collections.shuffle(row, random);
-        return row;
-    }
-
-    private Bytes size(int across, int down) {
-        Bytes x = new Bytes().mark(81).u2(38 + 3 * components).u2(below(65536));
-        int wide = 1 + below(1 << below(20));
-        int high = 1 + below(1 << below(20));
-        int fromX = below(1 << below(20));
-        int fromY = below(1 << below(20));
-        long[] u4 = {(long) fromX + (long) wide * across - below(across == 1 ? 1 : wide),
-            (long) fromY + (long) high * down - below(down == 1 ? 1 : high),
-            fromX + below(across == 1 ? wide : wide), fromY + below(high), wide, high, fromX,
-            fromY};
-        for (long n : u4) {
-            boolean odd = below(2000) < spoiled;
-            x.u4(odd ? oneIn(2) ? 0 : random.nextInt() : n);
-        }
-        x.u2(below(2000) < spoiled ? below(20) : components);
-        for (int c = 0; c < components; c++) {
-            x.u1(number(0, 37) + (oneIn(2) ? 128 : 0), number(1, 255), number(1, 255));
-        }
-        return x;
-    }
-
-    private int[] body(boolean told) {
-        int levels = oneIn(10) ? below(34) : below(4);
-        int[] b = new int[5 + (told ? levels + 1 : 0)];
-        b[0] = number(levels, levels);
-        b[1] = number(0, 4);
-        b[2] = number(0, 4);
-        b[3] = number(0, 63);
-        b[4] = number(0, 1);
-        for (int r = 0; r + 5 < b.length; r++) {
-            b[5 + r] = number(r == 0 ? 0 : 1, 15) + 16 * (r == 0 ? below(16) : number(1, 15));
-        }
-        return b;
-    }
-
-    private Bytes segment(int mark, int n) {
-        Bytes b = new Bytes();
-        boolean told = oneIn(2);
-        switch (mark) {
-            case 82:
-                b.u1(number(0, 3) * 2 + (told ? 1 : 0), number(0, 4));
-                b.u2(oneIn(50) ? 250 + below(10) : number(1, 255)).u1(number(0, 1)).u1(body(told));
-                break;
-            case 83:
-                b.u1(number(0, components - 1), number(0, 0) * 2 + (told ? 1 : 0)).u1(body(told));
-                break;
-            case 92:
-                b.u1(steps());
-                break;
-            case 93:
-                b.u1(number(0, components - 1)).u1(steps());
-                break;
-            case 94:
-                b.u1(number(0, components - 1), number(0, 0), number(0, 37));
-                break;
-            case 95:
-                addChanges(b);
-                break;
-            case 96:
-                b.u1(number(n, n)).u1(packedBytes());
-                break;
-            case 97:
-                b.u1(number(n, n)).u1(bytes(below(4)));
-                break;
-            default:
-                b.u1(bytes(below(6)));
-                break;
-        }
-        boolean bare = mark >= 48 && mark <= 63 || mark == 79 || mark == 146 || mark == 147
-                || mark == 217;
-        Bytes x = new Bytes().mark(mark);
-        int odd = below(1000) < spoiled ? below(5) - 2 : 0;
-        return bare ? x : x.u2(2 + b.size() + odd).add(b);
-    }
-
-    private void addChanges(Bytes b) {
-        int count = oneIn(20) ? 30 + below(5) : below(3);
-        for (int i = 0; i < count; i++) {
-            int level = below(33);
-            int component = below(256);
-            int end = component + 1 + below(256 - component);
-            b.u1(number(level, level), number(component, component));
-            b.u2(number(1, 65535)).u1(number(level + 1, 33), number(end, end), number(0, 4));
-        }
-    }
-
-    private int[] steps() {
-        int kind = number(0, 2) & 31;
-        int count = kind == 1 ? 1 : 1 + 3 * (oneIn(10) ? below(34) : below(4));
-        int bytes = kind == 0 ? count : 2 * count;
-        int[] row = bytes(1 + bytes + (below(1000) < spoiled ? 1 : 0));
-        row[0] = kind + 32 * below(8);
-        return row;
-    }
-
-    private int[] bytes(int count) {
-        int[] row = new int[count];
-        for (int i = 0; i < count; i++) {
-            row[i] = oneIn(6) ? 255 : below(256);
-        }
-        return row;
-    }
-
-    private int[] packedBytes() {
-        Bytes b = new Bytes();
-        for (int i = 0; i < below(4); i++) {
-            int n = below(4);
-            b.u4(oneIn(10) ? random.nextInt() : n).u1(bytes(n));
-        }
-        return b.cutTo(oneIn(3) ? below(12) : 99).toArray();
-    }
-
-    private void addParts(Bytes x, int tiles, boolean packed) {
-        int many = oneIn(400) ? 260 : tiles + below(4);
-        int[] had = new int[tiles];
-        int[] heads = new int[tiles];
-        int[] order = new int[many];
-        int[] total = new int[tiles];
-        for (int k = 0; k < many; k++) {
-            order[k] = k < tiles && !oneIn(100) ? k : below(tiles);
-            total[order[k]]++;
-        }
-        boolean tells = oneIn(2);
-        for (int k = 0; k < many; k++) {
-            int t = order[k];
-            Bytes header = new Bytes();
-            for (int n = 0; n < below(5); n++) {
-                int[] may = {82, 83, 92, 93, 94, 95, 83, 94};
-                boolean ofPlan = had[t] == 0 && oneIn(2);
-                int mark = ofPlan ? may[below(may.length)] : oneIn(3) && !packed ? 97
-                        : 48 + below(16);
-                header.add(segment(below(500) < spoiled ? ANY_MARK[below(ANY_MARK.length)] : mark,
-                        heads[t]));
-                heads[t] += mark == 97 ? 1 : 0;
-            }
-            header.mark(number(147, 147));
-            int[] data = bytes(below(4));
-            int span = 12 + header.size() + data.length;
-            boolean last = k == many - 1;
-            int told = tells && oneIn(2) ? Math.min(total[t], 255) : 0;
-            x.part(number(t, t), last && oneIn(3) ? 0 : below(1500) < spoiled ? below(60) : span,
-                    number(had[t], had[t]), number(told, told));
-            x.add(header).u1(data);
-            had[t]++;
-        }
-    }
-
-    private int[] spoil(Bytes x) {
-        if (oneIn(3)) {
-            for (int n = 0; n <= below(3); n++) {
-                x.set(below(x.size()), oneIn(4) ? ANY_MARK[below(ANY_MARK.length)] : below(256));
-            }
-        }
-        if (oneIn(10)) {
-            x.cutTo(below(x.size() + 1));
-        }
-        if (oneIn(10)) {
-            x.u1(bytes(below(3)));
-        }
-        return x.toArray();
-    }
-
     /** A plan of the calls, written, scanned and compared; the bytes are judged by the model. */
     private void roundTrip(String when) {
-        StreamMarks x = new StreamMarks();
+        Counted x = new Counted();
         int count = 1 + below(4);
         x.picture(below(9), below(9), 9 + below(99), 9 + below(99));
         int levels = below(5);
@@ -333,7 +135,7 @@ public final class ModelTest {
         for (int k = 0; k < stream.length; k++) {
             stream[k] = x.at(k);
         }
-        compare(when, x, stream);
+        compare(when, x, new Model(stream));
         Check.yes(when + " the plan again", Arrays.equals(allOf(x), due));
     }
 
@@ -357,7 +159,7 @@ public final class ModelTest {
     }
 
     /** How many bytes write() needs, if it tells what differs and nothing else. */
-    private static int leastSize(StreamMarks x, int count) {
+    private static int leastSize(Counted x, int count) {
         int[] plan = asRead(allOf(x), count);
         int size = 2 + 40 + 3 * count + 7 + 2;
         int[] first = Arrays.copyOfRange(plan, 15, 15 + 175);

@@ -25,7 +25,7 @@ public final class PlanTest {
     }
 
     private static void newObject() {
-        StreamMarks x = new StreamMarks();
+        Counted x = new Counted();
         checkEmpty("1 new", x);
         Check.same("1 place()", x.place(), -1);
         Check.same("1 at(-1)", x.at(-1), 0);
@@ -35,7 +35,7 @@ public final class PlanTest {
         Check.refuses("1 write", STATE, x::write);
     }
 
-    private static void checkEmpty(String when, StreamMarks x) {
+    private static void checkEmpty(String when, Counted x) {
         for (int what = 0; what <= 14; what++) {
             Check.same(when + " get(" + what + ")", x.get(what, 0, 0), what == 10 ? 1 : 0);
         }
@@ -44,7 +44,7 @@ public final class PlanTest {
     }
 
     private static void plan() {
-        StreamMarks x = new StreamMarks();
+        Counted x = new Counted();
         x.picture(1, 2, 30, 40);
         x.component(8, true, 1, 2);
         x.coding(0, 5, 4, 4, 3, false);
@@ -61,7 +61,7 @@ public final class PlanTest {
         x.component(1, false, 1, 1);
         checkNewComponent("2 component after plan", x, 0);
 
-        StreamMarks y = new Bytes().main(1, 1).barePart(0, 0, 1).end().feed(new StreamMarks());
+        Counted y = new Bytes().main(1, 1).barePart(0, 0, 1).end().feed(new Counted());
         y.scan();
         y.plan();
         checkEmpty("2 plan after scan", y);
@@ -69,7 +69,7 @@ public final class PlanTest {
     }
 
     private static void picture() {
-        StreamMarks x = new StreamMarks();
+        Counted x = new Counted();
         int[][] bad = {{-1, 0, 1, 1}, {0, -1, 1, 1}, {1, 0, 1, 1}, {0, 1, 1, 1}, {2, 0, 1, 1},
             {0, 0, 0, 1}, {0, 0, 1, 0}, {LEAST, 0, 1, 1}, {0, 0, -5, 7}, {0, 5, 9, 4}};
         for (int[] p : bad) {
@@ -85,14 +85,14 @@ public final class PlanTest {
         checkArea("3 stays", x, MOST - 1, MOST - 1, MOST, MOST, 0, 0, MOST, MOST);
     }
 
-    private static void checkArea(String when, StreamMarks x, int... due) {
+    private static void checkArea(String when, Counted x, int... due) {
         for (int what = 0; what < due.length; what++) {
             Check.same(when + " get(" + what + ")", x.get(what, 7, -3), due[what]);
         }
     }
 
     private static void tiles() {
-        StreamMarks x = new StreamMarks();
+        Counted x = new Counted();
         Check.refuses("4 no picture", STATE, () -> x.tiles(-1, 0, 0, 0));
         x.picture(10, 20, 40, 60);
         int[][] bad = {{-1, 0, 100, 100}, {0, -1, 100, 100}, {11, 0, 100, 100}, {0, 21, 100, 100},
@@ -110,7 +110,7 @@ public final class PlanTest {
         x.tiles(10, 20, MOST, MOST);
         checkArea("4 widest", x, 10, 20, 40, 60, 10, 20, MOST, MOST);
 
-        StreamMarks y = new StreamMarks();
+        Counted y = new Counted();
         y.picture(0, 0, 64, 1);
         y.tiles(0, 0, 1, 1);
         Check.same("4 64 tiles", y.get(6, 0, 0), 1);
@@ -126,7 +126,7 @@ public final class PlanTest {
     }
 
     private static void component() {
-        StreamMarks x = new StreamMarks();
+        Counted x = new Counted();
         int[][] bad = {{0, 1, 1}, {39, 1, 1}, {-1, 1, 1}, {8, 0, 1}, {8, 1, 0}, {8, 256, 1},
             {8, 1, 256}, {8, -1, 1}, {8, 1, -1}, {MOST, 1, 1}};
         for (int[] c : bad) {
@@ -149,7 +149,7 @@ public final class PlanTest {
         Check.same("5 16 of them", x.get(8, 0, 0), 16);
     }
 
-    private static void checkNewComponent(String when, StreamMarks x, int c) {
+    private static void checkNewComponent(String when, Counted x, int c) {
         int[] due = {0, 6, 6, 0, 1, 0, 2, 0};
         for (int i = 0; i < due.length; i++) {
             Check.same(when + " get(" + (24 + i) + ")", x.get(24 + i, c, 0), due[i]);
@@ -164,7 +164,7 @@ public final class PlanTest {
     }
 
     private static void general() {
-        StreamMarks x = new StreamMarks();
+        Counted x = new Counted();
         x.general(4, 255, true, false, true);
         int[] due = {4, 255, 1, 0, 1};
         int[][] bad = {{-1, 1}, {5, 1}, {0, 0}, {0, -1}, {0, 256}, {MOST, MOST}};
@@ -182,7 +182,7 @@ public final class PlanTest {
     }
 
     private static void coding() {
-        StreamMarks x = new StreamMarks();
+        Counted x = new Counted();
         Check.refuses("7 no component", NONE, () -> x.coding(0, 99, 6, 6, 0, true));
         x.component(8, false, 1, 1);
         x.precincts(0, 2, 3, 4);
@@ -206,14 +206,14 @@ public final class PlanTest {
         Check.same("7 value stays", x.get(34, 0, 1), 77);
     }
 
-    private static void checkNumbers(String when, StreamMarks x, int from, int... due) {
+    private static void checkNumbers(String when, Counted x, int from, int... due) {
         for (int i = 0; i < due.length; i++) {
             Check.same(when + " get(" + (from + i) + ")", x.get(from + i, 0, 0), due[i]);
         }
     }
 
     private static void precincts() {
-        StreamMarks x = new StreamMarks();
+        Counted x = new Counted();
         Check.refuses("8 no component", NONE, () -> x.precincts(0, -1, 0, 0));
         x.component(8, false, 1, 1);
         int[][] bad = {{-1, 5, 5}, {33, 5, 5}, {0, -1, 5}, {0, 5, -1}, {0, 16, 5}, {0, 5, 16},
@@ -233,7 +233,7 @@ public final class PlanTest {
     }
 
     private static void steps() {
-        StreamMarks x = new StreamMarks();
+        Counted x = new Counted();
         Check.refuses("9 no component", NONE, () -> x.steps(0, 9, 9, 99));
         x.component(8, false, 1, 1);
         x.step(0, 5, 500);
@@ -250,7 +250,7 @@ public final class PlanTest {
     }
 
     private static void step() {
-        StreamMarks x = new StreamMarks();
+        Counted x = new Counted();
         Check.refuses("10 no component", NONE, () -> x.step(0, -1, -1));
         x.component(8, false, 1, 1);
         int[][] bad = {{-1, 0}, {97, 0}, {0, -1}, {0, 65536}, {MOST, 0}};
@@ -266,7 +266,7 @@ public final class PlanTest {
     }
 
     private static void change() {
-        StreamMarks x = new StreamMarks();
+        Counted x = new Counted();
         int[][] bad = {{-1, 0, 1, 1, 1, 0}, {0, -1, 1, 1, 1, 0}, {0, 0, 0, 1, 1, 0},
             {0, 0, 256, 1, 1, 0}, {0, 0, 1, 0, 1, 0}, {3, 0, 1, 3, 1, 0}, {0, 0, 1, 34, 1, 0},
             {33, 0, 1, 33, 1, 0}, {0, 0, 1, 1, 0, 0}, {0, 0, 1, 1, 17, 0}, {0, 0, 1, 1, 256, 0},
@@ -293,7 +293,7 @@ public final class PlanTest {
     }
 
     private static void get() {
-        StreamMarks x = new StreamMarks();
+        Counted x = new Counted();
         x.component(8, true, 2, 3);
         x.change(1, 2, 3, 4, 5, 2);
         int[] none = {-1, 15, 16, 19, 35, 39, 46, LEAST, MOST};

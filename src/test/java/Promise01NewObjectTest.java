@@ -5,7 +5,7 @@ public final class Promise01NewObjectTest {
     }
 
     static void noPicture() {
-        StreamMarks x = new StreamMarks();
+        Counted x = new Counted();
         for (int what = 0; what <= 7; what++) {
             Check.same("get(" + what + ")", x.get(what, 0, 0), 0);
         }
@@ -14,14 +14,14 @@ public final class Promise01NewObjectTest {
     }
 
     static void noComponents() {
-        StreamMarks x = new StreamMarks();
+        Counted x = new Counted();
         Check.same("get(8)", x.get(8, 0, 0), 0);
         Twin.none("component 0", y -> y.get(20, 0, 0), Made::nothing);
         Check.same("the first", x.component(1, false, 1, 1), 0);
     }
 
     static void orderZeroAndOneLayer() {
-        StreamMarks x = new StreamMarks();
+        Counted x = new Counted();
         int[] due = {0, 1, 0, 0, 0};
         for (int i = 0; i < due.length; i++) {
             Check.same("get(" + (9 + i) + ")", x.get(9 + i, 0, 0), due[i]);
@@ -29,14 +29,14 @@ public final class Promise01NewObjectTest {
     }
 
     static void noChanges() {
-        StreamMarks x = new StreamMarks();
+        Counted x = new Counted();
         Check.same("get(14)", x.get(14, 0, 0), 0);
         Twin.none("change 0", y -> y.get(40, 0, 0), Made::nothing);
         Check.same("the first", x.change(0, 0, 1, 1, 1, 0), 1);
     }
 
     static void emptyStream() {
-        StreamMarks x = new StreamMarks();
+        Counted x = new Counted();
         Check.same("at(-1)", x.at(-1), 0);
         Twin.none("at(0)", y -> y.at(0), Made::nothing);
         Twin.none("spoil(0)", y -> y.spoil(0, 0), Made::nothing);
@@ -47,14 +47,14 @@ public final class Promise01NewObjectTest {
         Twin.state("use(0)", x -> x.use(0), Made::nothing);
         Twin.state("head(0, 0)", x -> x.head(0, 0), Made::nothing);
         Twin.state("found(-1, 0)", x -> x.found(-1, 0), Made::nothing);
-        Check.same("place()", new StreamMarks().place(), -1);
+        Check.same("place()", new Counted().place(), -1);
     }
 
     static void twoObjectsShareNothing() {
-        StreamMarks one = new StreamMarks();
+        Counted one = new Counted();
         Made.rich(one);
         Made.scanned(one);
-        StreamMarks other = new StreamMarks();
+        Counted other = new Counted();
         for (int what = 0; what <= 14; what++) {
             Check.same("get(" + what + ")", other.get(what, 0, 0), what == 10 ? 1 : 0);
         }
@@ -74,7 +74,7 @@ public final class Promise01NewObjectTest {
         Twin.none("step", x -> x.step(2, 97, 65536), Made::rich);
         Twin.argument("change", x -> x.change(0, 0, 0, 1, 1, 0), Made::great);
         Twin.argument("put", x -> x.put(256), Made::full);
-        Twin.state("write", StreamMarks::write, x -> {
+        Twin.state("write", Counted::write, x -> {
             Made.full(x);
             x.plan();
         });
@@ -87,7 +87,7 @@ public final class Promise01NewObjectTest {
 
     /** "An object is used for at most 512 calls": the last of them is answered as the first. */
     static void fiveHundredAndTwelveCalls() {
-        StreamMarks x = new StreamMarks();
+        Counted x = new Counted();
         for (int n = 1; n <= 510; n++) {
             Check.same("put", x.put(n & 255), n);
         }

@@ -4,7 +4,7 @@ public final class Promise02PlanTest {
         Check.runAll(Promise02PlanTest.class);
     }
 
-    private static void checkEmpty(String when, StreamMarks x) {
+    private static void checkEmpty(String when, Counted x) {
         for (int what = 0; what <= 14; what++) {
             Check.same(when + " get(" + what + ")", x.get(what, 0, 0), what == 10 ? 1 : 0);
         }
@@ -17,26 +17,26 @@ public final class Promise02PlanTest {
     }
 
     static void anEmptyOneStaysEmpty() {
-        StreamMarks x = new StreamMarks();
+        Counted x = new Counted();
         x.plan();
         x.plan();
         checkEmpty("empty", x);
     }
 
     static void whatWasToldIsGone() {
-        StreamMarks x = Made.with(Made::rich);
+        Counted x = Made.with(Made::rich);
         x.plan();
         checkEmpty("rich", x);
     }
 
     static void whatWasReadIsGone() {
-        StreamMarks x = Made.with(Made::scanned);
+        Counted x = Made.with(Made::scanned);
         x.plan();
         checkEmpty("read", x);
     }
 
     static void thereIsRoomForAllAgain() {
-        StreamMarks x = Made.with(Made::great);
+        Counted x = Made.with(Made::great);
         x.plan();
         checkEmpty("great", x);
         for (int c = 0; c < 16; c++) {
@@ -51,7 +51,7 @@ public final class Promise02PlanTest {
 
     /** A component that comes then has nothing of the one that bore its number. */
     static void aNewComponentIsNew() {
-        StreamMarks x = Made.with(Made::rich);
+        Counted x = Made.with(Made::rich);
         x.plan();
         x.component(8, false, 1, 1);
         x.component(8, false, 1, 1);
@@ -69,8 +69,8 @@ public final class Promise02PlanTest {
     }
 
     static void theStreamStays() {
-        Twin.streamStays("not scanned", StreamMarks::plan, Made::rich);
-        Twin.streamStays("scanned", StreamMarks::plan, Made::scanned);
-        Twin.streamStays("heads of all", StreamMarks::plan, Made::scannedHeadsOfAll);
+        Twin.streamStays("not scanned", Counted::plan, Made::rich);
+        Twin.streamStays("scanned", Counted::plan, Made::scanned);
+        Twin.streamStays("heads of all", Counted::plan, Made::scannedHeadsOfAll);
     }
 }

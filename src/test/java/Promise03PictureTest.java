@@ -10,7 +10,7 @@ public final class Promise03PictureTest {
     private static void taken(int x0, int y0, int x1, int y1) {
         Use[] states = {Made::nothing, Made::rich, Made::scanned};
         for (Use state : states) {
-            StreamMarks x = Made.with(state);
+            Counted x = Made.with(state);
             int components = x.get(8, 0, 0);
             x.picture(x0, y0, x1, y1);
             int[] due = {x0, y0, x1, y1, 0, 0, x1, y1, components};
@@ -79,7 +79,7 @@ public final class Promise03PictureTest {
 
     /** Also if x0, y0 are not 0, and if there were other tiles. */
     static void tilesAreOneOfTheWholePicture() {
-        StreamMarks x = new StreamMarks();
+        Counted x = new Counted();
         x.picture(10, 20, 30, 40);
         x.tiles(9, 19, 5, 6);
         x.picture(11, 21, 31, 41);
@@ -90,7 +90,7 @@ public final class Promise03PictureTest {
     }
 
     static void behindARefusedOneThereIsNoPicture() {
-        StreamMarks x = new StreamMarks();
+        Counted x = new Counted();
         x.component(8, false, 1, 1);
         Check.refuses("picture", IllegalArgumentException.class, () -> x.picture(0, 0, 0, 0));
         Check.refuses("tiles", IllegalStateException.class, () -> x.tiles(0, 0, 1, 1));

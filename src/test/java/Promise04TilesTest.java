@@ -8,14 +8,14 @@ public final class Promise04TilesTest {
     }
 
     /** Columns 10 .. 39, rows 20 .. 59. */
-    private static void some(StreamMarks x) {
+    private static void some(Counted x) {
         Made.rich(x);
         x.picture(10, 20, 40, 60);
         x.tiles(9, 19, 8, 11);
     }
 
     private static void taken(Use picture, int... t) {
-        StreamMarks x = Made.with(picture);
+        Counted x = Made.with(picture);
         int[] area = {x.get(0, 0, 0), x.get(1, 0, 0), x.get(2, 0, 0), x.get(3, 0, 0)};
         x.tiles(t[0], t[1], t[2], t[3]);
         for (int i = 0; i < 4; i++) {

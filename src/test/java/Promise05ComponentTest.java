@@ -8,7 +8,7 @@ public final class Promise05ComponentTest {
     }
 
     private static void taken(int bits, boolean signed, int dx, int dy) {
-        StreamMarks x = Made.with(Made::rich);
+        Counted x = Made.with(Made::rich);
         Check.same("number", x.component(bits, signed, dx, dy), 2);
         Check.same("how many", x.get(8, 0, 0), 3);
         int[] due = {bits, signed ? 1 : 0, dx, dy, 0, 6, 6, 0, 1, 0, 2, 0};
@@ -55,7 +55,7 @@ public final class Promise05ComponentTest {
     }
 
     static void sixteenOfThem() {
-        StreamMarks x = new StreamMarks();
+        Counted x = new Counted();
         for (int c = 0; c < 16; c++) {
             Check.same("number", x.component(1 + c, c % 2 == 1, 1 + c, 255 - c), c);
         }
@@ -75,7 +75,7 @@ public final class Promise05ComponentTest {
             new Bytes().main(1, 15).barePart(0, 0, 0).end().feed(x);
             x.scan();
         };
-        StreamMarks x = Made.with(fifteen);
+        Counted x = Made.with(fifteen);
         Check.same("a 16th", x.component(8, false, 1, 1), 15);
         Check.refuses("a 17th", IllegalStateException.class, () -> x.component(8, false, 1, 1));
         Check.same("found", x.found(-1, 0), 1);
@@ -83,7 +83,7 @@ public final class Promise05ComponentTest {
 
     /** All exponents and values, also those that no level needs. */
     static void aNewOneHasAllExponents15AndValues0() {
-        StreamMarks x = Made.with(Made::rich);
+        Counted x = Made.with(Made::rich);
         x.component(8, false, 1, 1);
         for (int r = 0; r <= 32; r++) {
             Check.same("pw", x.get(32, 2, r), 15);

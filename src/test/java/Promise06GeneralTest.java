@@ -11,7 +11,7 @@ public final class Promise06GeneralTest {
             boolean behind) {
         Use[] states = {Made::nothing, Made::rich, Made::scanned};
         for (Use state : states) {
-            StreamMarks x = Made.with(state);
+            Counted x = Made.with(state);
             int changes = x.get(14, 0, 0);
             x.general(order, layers, colour, ahead, behind);
             int[] due = {order, layers, colour ? 1 : 0, ahead ? 1 : 0, behind ? 1 : 0, changes};
@@ -51,8 +51,8 @@ public final class Promise06GeneralTest {
 
     /** A stream may not tell more than 255 either, but tells all of them. */
     static void layersThatAScanReadMayBe255() {
-        StreamMarks x = new Bytes().start(1, 1).segment(82, 0, 0, 0, 255, 0, 0, 4, 4, 0, 1).steps()
-                .barePart(0, 0, 0).end().feed(new StreamMarks());
+        Counted x = new Bytes().start(1, 1).segment(82, 0, 0, 0, 255, 0, 0, 4, 4, 0, 1).steps()
+                .barePart(0, 0, 0).end().feed(new Counted());
         Check.same("scan", x.scan(), 0);
         Check.same("layers", x.get(10, 0, 0), 255);
     }

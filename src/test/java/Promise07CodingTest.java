@@ -8,7 +8,7 @@ public final class Promise07CodingTest {
     }
 
     private static void taken(int levels, int bw, int bh, int style, boolean exact) {
-        StreamMarks x = Made.with(Made::rich);
+        Counted x = Made.with(Made::rich);
         for (int c = 1; c >= 0; c--) {
             x.coding(c, levels, bw, bh, style, exact);
             int[] due = {levels, bw, bh, style, exact ? 1 : 0};
@@ -36,7 +36,7 @@ public final class Promise07CodingTest {
             Made.rich(x);
             x.plan();
         });
-        StreamMarks x = Made.with(Made::great);
+        Counted x = Made.with(Made::great);
         x.coding(15, 1, 2, 3, 4, false);
         Check.same("15 of 16", x.get(26, 15, 0), 3);
         Check.same("14 stays", x.get(26, 14, 0), 6);
@@ -100,7 +100,7 @@ public final class Promise07CodingTest {
 
     /** Also those that fewer levels don't need: they are there when the levels come back. */
     static void precinctsStepsAndShiftStay() {
-        StreamMarks x = Made.with(Made::rich);
+        Counted x = Made.with(Made::rich);
         x.coding(1, 0, 6, 6, 0, true);
         int[][] due = {{29, 0, 2}, {30, 0, 5}, {31, 0, 17}, {32, 2, 3}, {33, 2, 4}, {32, 32, 5},
             {33, 32, 6}, {34, 12, 40000}, {34, 96, 1}};

@@ -8,7 +8,7 @@ public final class Promise08PrecinctsTest {
     }
 
     private static void taken(int r, int pw, int ph) {
-        StreamMarks x = Made.with(Made::rich);
+        Counted x = Made.with(Made::rich);
         x.precincts(0, r, pw, ph);
         Check.same("pw", x.get(32, 0, r), pw);
         Check.same("ph", x.get(33, 0, r), ph);
@@ -35,7 +35,7 @@ public final class Promise08PrecinctsTest {
         Twin.none("16 of 16", x -> x.precincts(16, 0, 1, 1), Made::great);
         Twin.none("greatest", x -> x.precincts(MOST, 0, 1, 1), Made::rich);
         Twin.none("least", x -> x.precincts(LEAST, 0, 1, 1), Made::rich);
-        StreamMarks x = Made.with(Made::great);
+        Counted x = Made.with(Made::great);
         x.precincts(15, 0, 1, 2);
         Check.same("15 of 16", x.get(33, 15, 0), 2);
     }
@@ -83,7 +83,7 @@ public final class Promise08PrecinctsTest {
 
     /** Of a level that the coding doesn't need it is kept, too. */
     static void levelsAboveThoseOfTheCoding() {
-        StreamMarks x = Made.with(Made::small);
+        Counted x = Made.with(Made::small);
         x.precincts(0, 1, 3, 4);
         Check.same("write", x.write(), Made.SMALL_BYTES);
         x.coding(0, 1, 6, 6, 0, true);

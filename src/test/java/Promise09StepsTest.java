@@ -8,7 +8,7 @@ public final class Promise09StepsTest {
     }
 
     private static void taken(int kind, int guard, int shift) {
-        StreamMarks x = Made.with(Made::rich);
+        Counted x = Made.with(Made::rich);
         for (int c = 0; c < 2; c++) {
             x.steps(c, kind, guard, shift);
             Check.same("kind", x.get(29, c, 0), kind);
@@ -30,7 +30,7 @@ public final class Promise09StepsTest {
         Twin.none("16 of 16", x -> x.steps(16, 0, 0, 0), Made::great);
         Twin.none("greatest", x -> x.steps(MOST, 0, 0, 0), Made::rich);
         Twin.none("least", x -> x.steps(LEAST, 0, 0, 0), Made::rich);
-        StreamMarks x = Made.with(Made::great);
+        Counted x = Made.with(Made::great);
         x.steps(15, 1, 6, 33);
         Check.same("15 of 16", x.get(31, 15, 0), 33);
     }
@@ -69,7 +69,7 @@ public final class Promise09StepsTest {
     }
 
     static void theValuesStay() {
-        StreamMarks x = Made.with(Made::rich);
+        Counted x = Made.with(Made::rich);
         int[] kinds = {1, 0, 2};
         for (int kind : kinds) {
             x.steps(1, kind, 0, 0);

@@ -8,7 +8,7 @@ public final class Promise10StepTest {
     }
 
     private static void taken(int k, int value) {
-        StreamMarks x = Made.with(Made::rich);
+        Counted x = Made.with(Made::rich);
         x.step(0, k, value);
         for (int other = 0; other <= 96; other++) {
             Check.same("value " + other, x.get(34, 0, other), other == k ? value : 0);
@@ -30,7 +30,7 @@ public final class Promise10StepTest {
         Twin.none("16 of 16", x -> x.step(16, 0, 0), Made::great);
         Twin.none("greatest", x -> x.step(MOST, 0, 0), Made::rich);
         Twin.none("least", x -> x.step(LEAST, 0, 0), Made::rich);
-        StreamMarks x = Made.with(Made::great);
+        Counted x = Made.with(Made::great);
         x.step(15, 0, 9);
         Check.same("15 of 16", x.get(34, 15, 0), 9);
     }
@@ -56,14 +56,14 @@ public final class Promise10StepTest {
         refused(3, 65536);
         refused(3, LEAST);
         refused(3, MOST);
-        StreamMarks x = Made.with(Made::rich);
+        Counted x = Made.with(Made::rich);
         x.step(1, 12, 0);
         Check.same("0 again", x.get(34, 1, 12), 0);
     }
 
     /** Of kind 0 a value is kept whole, though its 256th part is written. */
     static void aValueOfKindZeroIsKeptWhole() {
-        StreamMarks x = Made.with(Made::small);
+        Counted x = Made.with(Made::small);
         x.step(0, 0, 511);
         x.write();
         Check.same("value", x.get(34, 0, 0), 511);

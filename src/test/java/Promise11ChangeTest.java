@@ -9,7 +9,7 @@ public final class Promise11ChangeTest {
 
     /** level, component, layers' end, levels' end, components' end, order. */
     private static void taken(int... n) {
-        StreamMarks x = Made.with(Made::rich);
+        Counted x = Made.with(Made::rich);
         Check.same("how many", x.change(n[0], n[1], n[2], n[3], n[4], n[5]), 3);
         Check.same("get(14)", x.get(14, 0, 0), 3);
         for (int i = 0; i < 6; i++) {
@@ -83,7 +83,7 @@ public final class Promise11ChangeTest {
 
     /** The components need not be there. */
     static void componentsThatAreNotThere() {
-        StreamMarks x = new StreamMarks();
+        Counted x = new Counted();
         Check.same("of none", x.change(0, 15, 1, 1, 16, 0), 1);
         Check.same("first component", x.get(41, 0, 0), 15);
     }
@@ -109,7 +109,7 @@ public final class Promise11ChangeTest {
     }
 
     static void thirtyTwoOfThem() {
-        StreamMarks x = new StreamMarks();
+        Counted x = new Counted();
         for (int n = 1; n <= 32; n++) {
             Check.same("how many", x.change(n - 1, n % 16, n, 33, 16, n % 5), n);
         }
@@ -133,7 +133,7 @@ public final class Promise11ChangeTest {
             new Bytes().main(1, 1).segment(95, told.toArray()).barePart(0, 0, 0).end().feed(x);
             x.scan();
         };
-        StreamMarks x = Made.with(readOf31);
+        Counted x = Made.with(readOf31);
         Check.same("a 32nd", x.change(0, 0, 1, 1, 1, 0), 32);
         Check.refuses("a 33rd", IllegalStateException.class, () -> x.change(0, 0, 1, 1, 1, 0));
         Check.same("found", x.found(-1, 0), 1);

@@ -45,7 +45,7 @@ public final class Promise12GetTest {
 
     /** Of the plan as a whole a and b are nothing. */
     static void anyOtherNumbersFrom0To14() {
-        StreamMarks x = Made.with(Made::rich);
+        Counted x = Made.with(Made::rich);
         int[] due = {3, 5, 30, 40, 2, 4, 10, 9, 2, 3, 77, 1, 0, 1, 2};
         for (int what = 0; what <= 14; what++) {
             for (int any : ANY) {
@@ -55,7 +55,7 @@ public final class Promise12GetTest {
     }
 
     static void allOfPictureAndTilesAreZeroIfThereIsNone() {
-        StreamMarks x = new StreamMarks();
+        Counted x = new Counted();
         x.component(8, false, 1, 1);
         for (int what = 0; what <= 7; what++) {
             Check.same("get(" + what + ")", x.get(what, 0, 0), 0);
@@ -68,7 +68,7 @@ public final class Promise12GetTest {
     }
 
     static void theComponentIsThere() {
-        StreamMarks x = Made.with(Made::rich);
+        Counted x = Made.with(Made::rich);
         int[] due = {38, 1, 255, 2, 4, 5, 7, 33, 0, 2, 5, 17, 15, 15, 0};
         for (int what = 20; what <= 34; what++) {
             Check.same("get(" + what + ")", x.get(what, 1, 0), due[what - 20]);
@@ -83,7 +83,7 @@ public final class Promise12GetTest {
     }
 
     static void anyThirdNumberFrom20To31() {
-        StreamMarks x = Made.with(Made::rich);
+        Counted x = Made.with(Made::rich);
         int[] due = {38, 1, 255, 2, 4, 5, 7, 33, 0, 2, 5, 17};
         for (int what = 20; what <= 31; what++) {
             for (int any : ANY) {
@@ -93,7 +93,7 @@ public final class Promise12GetTest {
     }
 
     static void levelFromZeroTo32() {
-        StreamMarks x = Made.with(Made::rich);
+        Counted x = Made.with(Made::rich);
         Check.same("pw 0", x.get(32, 1, 0), 15);
         Check.same("ph 0", x.get(33, 1, 0), 15);
         Check.same("pw 32", x.get(32, 1, 32), 5);
@@ -107,7 +107,7 @@ public final class Promise12GetTest {
     }
 
     static void valueFromZeroTo96() {
-        StreamMarks x = Made.with(Made::rich);
+        Counted x = Made.with(Made::rich);
         Check.same("value 0", x.get(34, 1, 0), 0);
         Check.same("value 96", x.get(34, 1, 96), 1);
         none(34, 1, -1, Made::rich);
@@ -118,7 +118,7 @@ public final class Promise12GetTest {
 
     /** No levels, and one value of kind 1: the others are there all the same. */
     static void levelsAndValuesThatAreNotNeeded() {
-        StreamMarks x = Made.with(Made::small);
+        Counted x = Made.with(Made::small);
         x.steps(0, 1, 2, 0);
         x.step(0, 1, 77);
         x.precincts(0, 1, 3, 4);
@@ -126,13 +126,13 @@ public final class Promise12GetTest {
         Check.same("ph 32", x.get(33, 0, 32), 15);
         Check.same("value 1", x.get(34, 0, 1), 77);
         Check.same("value 96", x.get(34, 0, 96), 0);
-        StreamMarks y = Made.with(Made::scanned);
+        Counted y = Made.with(Made::scanned);
         Check.same("read: pw 32", y.get(32, 0, 32), 15);
         Check.same("read: value 96", y.get(34, 0, 96), 0);
     }
 
     static void theChangeIsThere() {
-        StreamMarks x = Made.with(Made::rich);
+        Counted x = Made.with(Made::rich);
         int[] due = {0, 1, 3, 33, 16, 2};
         for (int what = 40; what <= 45; what++) {
             Check.same("get(" + what + ")", x.get(what, 1, 0), due[what - 40]);
@@ -152,16 +152,16 @@ public final class Promise12GetTest {
     /** Numbers that would meet a change again by the wrap-around of their place. */
     static void farChanges() {
         int[] far = {715827883, 1431655766, 1 << 30, -715827882};
-        StreamMarks x = Made.with(Made::great);
+        Counted x = Made.with(Made::great);
         for (int a : far) {
             Check.refuses("change " + a, NoSuchElementException.class, () -> x.get(40, a, 0));
         }
     }
 
     static void componentsEndOfZeroInAStreamIs256() {
-        StreamMarks x = new Bytes().main(1, 1)
+        Counted x = new Bytes().main(1, 1)
                 .segment(95, 0, 255, 0, 1, 1, 0, 0, 0, 254, 0, 1, 1, 255, 0)
-                .barePart(0, 0, 0).end().feed(new StreamMarks());
+                .barePart(0, 0, 0).end().feed(new Counted());
         Check.same("scan", x.scan(), 0);
         Check.same("0", x.get(44, 0, 0), 256);
         Check.same("255", x.get(44, 1, 0), 255);

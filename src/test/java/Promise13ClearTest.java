@@ -6,21 +6,21 @@ public final class Promise13ClearTest {
         Check.runAll(Promise13ClearTest.class);
     }
 
-    private static void checkEmpty(String when, StreamMarks x) {
+    private static void checkEmpty(String when, Counted x) {
         Check.same(when + " at(-1)", x.at(-1), 0);
         Check.refuses(when + " at(0)", NoSuchElementException.class, () -> x.at(0));
         Check.refuses(when + " spoil(0)", NoSuchElementException.class, () -> x.spoil(0, 1));
         checkNotScanned(when, x);
     }
 
-    private static void checkNotScanned(String when, StreamMarks x) {
+    private static void checkNotScanned(String when, Counted x) {
         Check.refuses(when + " use", IllegalStateException.class, () -> x.use(0));
         Check.refuses(when + " head", IllegalStateException.class, () -> x.head(1, 0));
         Check.refuses(when + " found", IllegalStateException.class, () -> x.found(-1, 0));
     }
 
     static void anEmptyStreamStaysEmpty() {
-        StreamMarks x = new StreamMarks();
+        Counted x = new Counted();
         x.clear();
         checkEmpty("new", x);
         Check.same("place", x.place(), -1);
@@ -31,7 +31,7 @@ public final class Promise13ClearTest {
     }
 
     static void aScannedStreamIsGone() {
-        StreamMarks x = Made.with(Made::scanned);
+        Counted x = Made.with(Made::scanned);
         Check.same("scanned", x.found(-1, 0), 3);
         x.clear();
         checkEmpty("scanned", x);
@@ -40,7 +40,7 @@ public final class Promise13ClearTest {
     }
 
     static void aFullStreamIsGone() {
-        StreamMarks x = Made.with(Made::full);
+        Counted x = Made.with(Made::full);
         Check.refuses("full", UnsupportedOperationException.class, () -> x.put(1));
         x.clear();
         checkEmpty("full", x);
@@ -51,7 +51,7 @@ public final class Promise13ClearTest {
 
     /** As many bytes as before can be put. */
     static void thereIsRoomForAllAgain() {
-        StreamMarks x = Made.with(Made::full);
+        Counted x = Made.with(Made::full);
         x.clear();
         int most = Made.MOST_BYTES / Made.GREAT_BYTES;
         for (int n = 1; n <= most; n++) {
@@ -62,20 +62,20 @@ public final class Promise13ClearTest {
     }
 
     static void thePlanAndThePlaceStay() {
-        Twin.planAndPlaceStay("refused", StreamMarks::clear, Made::rich);
-        Twin.planAndPlaceStay("scanned", StreamMarks::clear, Made::scanned);
+        Twin.planAndPlaceStay("refused", Counted::clear, Made::rich);
+        Twin.planAndPlaceStay("scanned", Counted::clear, Made::scanned);
     }
 
     /** "so it is behind put, write, part, mark and spoil that did not throw" */
     static void notScannedBehindPutWritePartMarkAndSpoil() {
-        Use[] calls = {x -> x.put(0), StreamMarks::write, x -> x.part(0, 0, 0, 0),
+        Use[] calls = {x -> x.put(0), Counted::write, x -> x.part(0, 0, 0, 0),
             x -> x.mark(217), x -> x.spoil(0, 255)};
         String[] names = {"put", "write", "part", "mark", "spoil"};
         for (int i = 0; i < calls.length; i++) {
-            StreamMarks x = Made.with(Made::scanned);
+            Counted x = Made.with(Made::scanned);
             calls[i].on(x);
             checkNotScanned(names[i], x);
-            StreamMarks y = Made.with(Made::scannedHeadsOfAll);
+            Counted y = Made.with(Made::scannedHeadsOfAll);
             calls[i].on(y);
             checkNotScanned(names[i], y);
         }
@@ -83,10 +83,10 @@ public final class Promise13ClearTest {
 
     /** All of these put behind END, or the byte that was there: a scan takes the stream again. */
     static void scannedAgainByAScan() {
-        Use[] calls = {x -> x.put(0), StreamMarks::write, x -> x.part(0, 0, 0, 0),
+        Use[] calls = {x -> x.put(0), Counted::write, x -> x.part(0, 0, 0, 0),
             x -> x.mark(217), x -> x.spoil(0, 255)};
         for (Use call : calls) {
-            StreamMarks x = Made.with(Made::scanned);
+            Counted x = Made.with(Made::scanned);
             call.on(x);
             Check.same("scan", x.scan(), 0);
             Check.same("found", x.found(-1, 0), 3);

@@ -5,7 +5,7 @@ public final class Promise14PutTest {
     }
 
     static void aByteFromZeroTo255() {
-        StreamMarks x = new StreamMarks();
+        Counted x = new Counted();
         for (int b = 0; b <= 255; b++) {
             Check.same("put", x.put(b), b + 1);
         }
@@ -21,7 +21,7 @@ public final class Promise14PutTest {
     }
 
     static void theLastOf65536() {
-        StreamMarks x = new StreamMarks();
+        Counted x = new Counted();
         Made.filledTo(x, Made.MOST_BYTES - 2);
         Check.same("the last but one", x.put(1), Made.MOST_BYTES - 1);
         Check.same("the last", x.put(2), Made.MOST_BYTES);
@@ -42,7 +42,7 @@ public final class Promise14PutTest {
     }
 
     static void notScannedAnyMore() {
-        StreamMarks x = Made.with(Made::scanned);
+        Counted x = Made.with(Made::scanned);
         int size = x.at(-1);
         Check.same("put", x.put(0), size + 1);
         Check.refuses("found", IllegalStateException.class, () -> x.found(-1, 0));

@@ -10,13 +10,13 @@ public final class Promise15AtTest {
     }
 
     static void anEmptyStreamHasNone() {
-        Check.same("at(-1)", new StreamMarks().at(-1), 0);
+        Check.same("at(-1)", new Counted().at(-1), 0);
         Twin.none("at(0)", x -> x.at(0), Made::nothing);
         Twin.none("at(-2)", x -> x.at(-2), Made::nothing);
     }
 
     static void fromTheFirstToTheLast() {
-        StreamMarks x = Made.with(Made::rich);
+        Counted x = Made.with(Made::rich);
         Check.same("at(-1)", x.at(-1), 3);
         Check.same("at(0)", x.at(0), 255);
         Check.same("at(1)", x.at(1), 79);
@@ -32,7 +32,7 @@ public final class Promise15AtTest {
     }
 
     static void theLastOf65536() {
-        StreamMarks x = Made.with(Made::fullAndScanned);
+        Counted x = Made.with(Made::fullAndScanned);
         Check.same("at(-1)", x.at(-1), Made.MOST_BYTES);
         Check.same("at(65535)", x.at(65535), 217);
         Check.same("at(65534)", x.at(65534), 255);
@@ -43,7 +43,7 @@ public final class Promise15AtTest {
 
     /** The bytes of before are not there, though the row had them. */
     static void noneOfThoseThatWereCleared() {
-        StreamMarks x = Made.with(Made::scanned);
+        Counted x = Made.with(Made::scanned);
         x.clear();
         x.put(1);
         Check.same("at(0)", x.at(0), 1);

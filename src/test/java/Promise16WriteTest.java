@@ -5,7 +5,7 @@ public final class Promise16WriteTest {
     }
 
     private static void written(String what, Use plan, Bytes due) {
-        StreamMarks x = new StreamMarks();
+        Counted x = new Counted();
         plan.on(x);
         Check.same(what + ": bytes put", x.write(), due.size());
         Check.same(what + ": at(-1)", x.at(-1), due.size());
@@ -20,7 +20,7 @@ public final class Promise16WriteTest {
     }
 
     /** Components of one level. */
-    private static void ofOneLevel(StreamMarks x, int components) {
+    private static void ofOneLevel(Counted x, int components) {
         x.picture(0, 0, 4, 4);
         for (int c = 0; c < components; c++) {
             x.component(8, false, 1, 1);
@@ -37,9 +37,9 @@ public final class Promise16WriteTest {
     }
 
     static void noPicture() {
-        Twin.state("nothing", StreamMarks::write, Made::nothing);
-        Twin.state("a component", StreamMarks::write, x -> x.component(8, false, 1, 1));
-        Twin.state("scanned", StreamMarks::write, x -> {
+        Twin.state("nothing", Counted::write, Made::nothing);
+        Twin.state("a component", Counted::write, x -> x.component(8, false, 1, 1));
+        Twin.state("scanned", Counted::write, x -> {
             Made.scanned(x);
             x.plan();
             x.component(8, false, 1, 1);
@@ -47,8 +47,8 @@ public final class Promise16WriteTest {
     }
 
     static void noComponent() {
-        Twin.state("a picture", StreamMarks::write, x -> x.picture(0, 0, 4, 4));
-        Twin.state("scanned", StreamMarks::write, x -> {
+        Twin.state("a picture", Counted::write, x -> x.picture(0, 0, 4, 4));
+        Twin.state("scanned", Counted::write, x -> {
             Made.scanned(x);
             x.plan();
             x.picture(0, 0, 4, 4);
@@ -60,7 +60,7 @@ public final class Promise16WriteTest {
     }
 
     static void behindWhatIsThere() {
-        StreamMarks x = Made.with(Made::small);
+        Counted x = Made.with(Made::small);
         x.put(7);
         Check.same("once", x.write(), Made.SMALL_BYTES);
         Check.same("twice", x.write(), Made.SMALL_BYTES);
@@ -190,7 +190,7 @@ public final class Promise16WriteTest {
         int[] levels = {0, 1, 2, 31, 32};
         for (int n : levels) {
             for (int kind = 0; kind <= 2; kind++) {
-                StreamMarks x = Made.with(Made::small);
+                Counted x = Made.with(Made::small);
                 x.coding(0, n, 6, 6, 0, true);
                 x.steps(0, kind, 2, 0);
                 int values = kind == 1 ? 2 : (3 * n + 1) * (kind == 0 ? 1 : 2);
@@ -346,7 +346,7 @@ public final class Promise16WriteTest {
     /** What only a stream can tell: an end of 256 components, and of 65535 layers. */
     static void changesThatAScanRead() {
         Bytes main = new Bytes().main(1, 1).segment(95, 0, 255, 255, 255, 33, 0, 4);
-        StreamMarks x = new Bytes().add(main).barePart(0, 0, 0).end().feed(new StreamMarks());
+        Counted x = new Bytes().add(main).barePart(0, 0, 0).end().feed(new Counted());
         Check.same("scan", x.scan(), 0);
         x.clear();
         Check.same("write", x.write(), main.size());
@@ -357,7 +357,7 @@ public final class Promise16WriteTest {
     }
 
     static void sixteenComponentsAndAllElse() {
-        StreamMarks x = Made.with(Made::great);
+        Counted x = Made.with(Made::great);
         Check.same("great", x.write(), Made.GREAT_BYTES);
         x.part(0, 0, 1, 0);
         x.mark(217);
@@ -377,25 +377,25 @@ public final class Promise16WriteTest {
             x.plan();
             Made.small(x);
         };
-        StreamMarks x = Made.with(justRoom);
+        Counted x = Made.with(justRoom);
         Check.same("write", x.write(), Made.SMALL_BYTES);
         Check.same("at(-1)", x.at(-1), Made.MOST_BYTES);
         Check.same("the last", x.at(Made.MOST_BYTES - 1), 0);
         Check.same("its mark", x.at(Made.MOST_BYTES - 5), 92);
-        Twin.full("one byte too many", StreamMarks::write, y -> {
+        Twin.full("one byte too many", Counted::write, y -> {
             Made.filledTo(y, Made.MOST_BYTES - Made.SMALL_BYTES + 1);
             y.plan();
             Made.small(y);
         });
-        Twin.full("into a full one", StreamMarks::write, Made::full, Made::fullAndScanned);
+        Twin.full("into a full one", Counted::write, Made::full, Made::fullAndScanned);
     }
 
     /** None is put, the stream is still scanned, and what fits is taken later. */
     static void behindNoRoom() {
         int size = Made.MOST_BYTES - 100;
         Use state = x -> Made.scannedOf(x, size);
-        Twin.full("great", StreamMarks::write, state);
-        StreamMarks x = Made.with(state);
+        Twin.full("great", Counted::write, state);
+        Counted x = Made.with(state);
         Check.refuses("great", UnsupportedOperationException.class, x::write);
         Check.same("found", x.found(-1, 0), 1);
         x.plan();
@@ -405,12 +405,12 @@ public final class Promise16WriteTest {
     }
 
     static void thePlanAndThePlaceStay() {
-        Twin.planAndPlaceStay("refused", StreamMarks::write, Made::rich);
-        Twin.planAndPlaceStay("scanned", StreamMarks::write, Made::scanned);
+        Twin.planAndPlaceStay("refused", Counted::write, Made::rich);
+        Twin.planAndPlaceStay("scanned", Counted::write, Made::scanned);
     }
 
     static void notScannedAnyMore() {
-        StreamMarks x = Made.with(Made::scanned);
+        Counted x = Made.with(Made::scanned);
         x.write();
         Check.refuses("found", IllegalStateException.class, () -> x.found(-1, 0));
     }

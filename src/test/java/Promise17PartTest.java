@@ -8,7 +8,7 @@ public final class Promise17PartTest {
     }
 
     private static void taken(int tile, int part, int parts, int bytes) {
-        StreamMarks x = Made.with(Made::rich);
+        Counted x = Made.with(Made::rich);
         x.part(tile, part, parts, bytes);
         int[] due = new Bytes().part(tile, 14L + bytes, part, parts).mark(147).toArray();
         Check.same("at(-1)", x.at(-1), 3 + 14);
@@ -75,14 +75,14 @@ public final class Promise17PartTest {
     }
 
     static void roomForFourteen() {
-        StreamMarks x = new StreamMarks();
+        Counted x = new Counted();
         Made.filledTo(x, Made.MOST_BYTES - 14);
         x.part(1, 2, 3, 0);
         Check.same("at(-1)", x.at(-1), Made.MOST_BYTES);
         Check.same("the last", x.at(Made.MOST_BYTES - 1), 147);
         for (int less = 0; less <= 13; less++) {
             int size = Made.MOST_BYTES - less;
-            StreamMarks y = new StreamMarks();
+            Counted y = new Counted();
             Made.filledTo(y, size);
             Check.refuses("room of " + less, UnsupportedOperationException.class,
                     () -> y.part(1, 2, 3, 0));
@@ -96,7 +96,7 @@ public final class Promise17PartTest {
 
     /** "(without those bytes)": they need no room yet. */
     static void theBytesThemselvesNeedNoRoom() {
-        StreamMarks x = new StreamMarks();
+        Counted x = new Counted();
         Made.filledTo(x, Made.MOST_BYTES - 14);
         x.part(0, 0, 0, 65536);
         Check.same("at(-1)", x.at(-1), Made.MOST_BYTES);
@@ -114,7 +114,7 @@ public final class Promise17PartTest {
     }
 
     static void notScannedAnyMore() {
-        StreamMarks x = Made.with(Made::scanned);
+        Counted x = Made.with(Made::scanned);
         x.part(0, 0, 0, 0);
         Check.refuses("found", IllegalStateException.class, () -> x.found(-1, 0));
     }

@@ -5,7 +5,7 @@ public final class Promise18MarkTest {
     }
 
     static void aMarkFromZeroTo255() {
-        StreamMarks x = new StreamMarks();
+        Counted x = new Counted();
         int[] marks = {0, 1, 47, 48, 63, 64, 79, 127, 128, 217, 254, 255};
         for (int m : marks) {
             x.mark(m);
@@ -22,7 +22,7 @@ public final class Promise18MarkTest {
     }
 
     static void roomForTwo() {
-        StreamMarks x = new StreamMarks();
+        Counted x = new Counted();
         Made.filledTo(x, Made.MOST_BYTES - 2);
         x.mark(9);
         Check.same("at(-1)", x.at(-1), Made.MOST_BYTES);
@@ -34,7 +34,7 @@ public final class Promise18MarkTest {
     }
 
     static void aByteStillFitsWhereAMarkDoesNot() {
-        StreamMarks x = new StreamMarks();
+        Counted x = new Counted();
         Made.filledTo(x, Made.MOST_BYTES - 1);
         Check.refuses("mark", UnsupportedOperationException.class, () -> x.mark(217));
         Check.same("put", x.put(5), Made.MOST_BYTES);
@@ -51,7 +51,7 @@ public final class Promise18MarkTest {
     }
 
     static void notScannedAnyMore() {
-        StreamMarks x = Made.with(Made::scanned);
+        Counted x = Made.with(Made::scanned);
         x.mark(217);
         Check.refuses("found", IllegalStateException.class, () -> x.found(-1, 0));
     }

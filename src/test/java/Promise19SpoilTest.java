@@ -17,7 +17,7 @@ public final class Promise19SpoilTest {
     }
 
     static void fromTheFirstToTheLast() {
-        StreamMarks x = Made.with(Made::rich);
+        Counted x = Made.with(Made::rich);
         x.spoil(0, 1);
         x.spoil(2, 3);
         Check.same("at(0)", x.at(0), 1);
@@ -34,7 +34,7 @@ public final class Promise19SpoilTest {
     }
 
     static void theLastOf65536() {
-        StreamMarks x = Made.with(Made::full);
+        Counted x = Made.with(Made::full);
         x.spoil(65535, 200);
         Check.same("at(65535)", x.at(65535), 200);
         Check.same("at(-1)", x.at(-1), Made.MOST_BYTES);
@@ -45,7 +45,7 @@ public final class Promise19SpoilTest {
         int[][] due = {{0, 0}, {255, 255}, {256, 0}, {257, 1}, {511, 255}, {-1, 255}, {-256, 0},
             {-257, 255}, {-255, 1}, {127, 127}, {128, 128}, {MOST, 255}, {LEAST, 0},
             {LEAST + 7, 7}};
-        StreamMarks x = Made.with(Made::rich);
+        Counted x = Made.with(Made::rich);
         for (int[] d : due) {
             x.spoil(1, d[0]);
             Check.same("spoil " + d[0], x.at(1), d[1]);
@@ -56,7 +56,7 @@ public final class Promise19SpoilTest {
 
     /** Also if the byte was the same before. */
     static void notScannedAnyMore() {
-        StreamMarks x = Made.with(Made::scanned);
+        Counted x = Made.with(Made::scanned);
         x.spoil(0, 255);
         Check.refuses("found", IllegalStateException.class, () -> x.found(-1, 0));
         Check.same("scan", x.scan(), 0);

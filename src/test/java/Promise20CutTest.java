@@ -10,7 +10,7 @@ public final class Promise20CutTest {
 
     static void anEmptyStream() {
         new Bytes().refused("empty", 1, 0);
-        StreamMarks x = Made.with(Made::scanned);
+        Counted x = Made.with(Made::scanned);
         x.clear();
         Check.same("cleared", x.scan(), 1);
         Check.same("place", x.place(), 0);
@@ -143,7 +143,7 @@ public final class Promise20CutTest {
     }
 
     static void aStreamOf65536Bytes() {
-        StreamMarks x = Made.with(Made::fullAndScanned);
+        Counted x = Made.with(Made::fullAndScanned);
         Check.same("scan", x.scan(), 0);
         Check.same("bytes", x.found(0, 4), Made.MOST_BYTES - Made.GREAT_BYTES - 16);
         x.spoil(Made.GREAT_BYTES + 9, x.at(Made.GREAT_BYTES + 9) + 2);

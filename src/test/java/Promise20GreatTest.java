@@ -110,7 +110,7 @@ public final class Promise20GreatTest {
         parts(255).end().accepted("255");
         parts(256).end().accepted("256");
         parts(256).barePart(0, 255, 0).end().refused("257", 7, 65 + 256 * 14);
-        StreamMarks x = parts(256).end().feed(new StreamMarks());
+        Counted x = parts(256).end().feed(new Counted());
         Check.same("scan", x.scan(), 0);
         Check.same("found", x.found(-1, 0), 256);
         Check.same("the last", x.found(255, 1), 254);
@@ -129,8 +129,8 @@ public final class Promise20GreatTest {
         Spot.both("32", 0, 95, changes(32));
         Spot.both("33", 7, 95, changes(33));
         Spot.both("40", 7, 95, changes(40));
-        StreamMarks x = new Bytes().main(1, 1).segment(95, changes(32)).barePart(0, 0, 0).end()
-                .feed(new StreamMarks());
+        Counted x = new Bytes().main(1, 1).segment(95, changes(32)).barePart(0, 0, 0).end()
+                .feed(new Counted());
         Check.same("scan", x.scan(), 0);
         Check.same("changes", x.get(14, 0, 0), 32);
         Check.same("the last", x.get(45, 31, 0), 31 % 5);
@@ -138,9 +138,14 @@ public final class Promise20GreatTest {
 
     /** 32 of the main ones and 32 of a tile are not 64. */
     static void changesOfATileAreInsteadOfTheMainOnes() {
-        StreamMarks x = new Bytes().main(1, 1).segment(95, changes(32))
-                .part(0, 14 + 4 + 224, 0, 0).segment(95, changes(32)).mark(147).end()
-                .feed(new StreamMarks());
+        Counted x = new Counted();
+        Made.small(x);
+        for (int n = 0; n < 32; n++) {
+            x.change(0, 0, 1, 1, 1, n % 5);
+        }
+        x.write();
+        new Bytes().part(0, 14 + 4 + 224, 0, 0).segment(95, changes(32)).mark(147).end()
+                .feedMore(x);
         Check.same("scan", x.scan(), 0);
         Check.same("use", x.use(0), 0);
         Check.same("changes", x.get(14, 0, 0), 32);

@@ -4,15 +4,15 @@ public final class Promise20MainPlanTest {
         Check.runAll(Promise20MainPlanTest.class);
     }
 
-    private static StreamMarks scanned(Bytes main) {
-        StreamMarks x = Made.with(Made::rich);
+    private static Counted scanned(Bytes main) {
+        Counted x = Made.with(Made::rich);
         main.barePart(0, 0, 1).end().feed(x);
         Check.same("scan", x.scan(), 0);
         Check.same("place", x.place(), -1);
         return x;
     }
 
-    private static void check(String what, StreamMarks x, int c, int... due) {
+    private static void check(String what, Counted x, int c, int... due) {
         for (int i = 0; i < due.length; i++) {
             Check.same(what + " get(" + (20 + i) + ", " + c + ")", x.get(20 + i, c, 0), due[i]);
         }
@@ -20,7 +20,7 @@ public final class Promise20MainPlanTest {
 
     /** Nothing stays of what the plan was before. */
     static void nothingOfThePlanBefore() {
-        StreamMarks x = scanned(new Bytes().main(1, 2));
+        Counted x = scanned(new Bytes().main(1, 2));
         int[] due = {0, 0, 4, 4, 0, 0, 4, 4, 2, 0, 1, 0, 0, 0, 0};
         for (int what = 0; what < due.length; what++) {
             Check.same("get(" + what + ")", x.get(what, 0, 0), due[what]);
@@ -41,8 +41,8 @@ public final class Promise20MainPlanTest {
     static void itsCodingAndItsStepsBeforeThoseOfAll() {
         Bytes its = new Bytes().segment(83, 1, 0, 7, 1, 2, 3, 0).segment(93, 1, 225, 1, 2);
         Bytes all = new Bytes().segment(82, 6, 3, 0, 9, 1, 5, 4, 4, 8, 1).segment(92, 32, 7);
-        StreamMarks before = scanned(new Bytes().start(1, 3).add(its).add(all));
-        StreamMarks behind = scanned(new Bytes().start(1, 3).add(all).add(its));
+        Counted before = scanned(new Bytes().start(1, 3).add(its).add(all));
+        Counted behind = scanned(new Bytes().start(1, 3).add(all).add(its));
         for (int c = 0; c < 3; c++) {
             boolean own = c == 1;
             int[] due = {8, 0, 1, 1, own ? 7 : 5, own ? 3 : 6, own ? 4 : 6, own ? 3 : 8,
@@ -63,7 +63,7 @@ public final class Promise20MainPlanTest {
         for (int flags = 0; flags < 8; flags++) {
             int[] told = {flags, 0, 0, 1, 0, 0, 4, 4, 0, 1, 52};
             int[] all = (flags & 1) != 0 ? told : java.util.Arrays.copyOf(told, 10);
-            StreamMarks x = scanned(new Bytes().start(1, 1).segment(82, all).steps());
+            Counted x = scanned(new Bytes().start(1, 1).segment(82, all).steps());
             Check.same("pw", x.get(32, 0, 0), (flags & 1) != 0 ? 4 : 15);
             Check.same("ph", x.get(33, 0, 0), (flags & 1) != 0 ? 3 : 15);
             Check.same("ahead", x.get(12, 0, 0), (flags & 2) != 0 ? 1 : 0);
@@ -73,7 +73,7 @@ public final class Promise20MainPlanTest {
 
     /** "otherwise all are 15, as are those above N" */
     static void exponentsThatAreNotTold() {
-        StreamMarks x = scanned(new Bytes().start(1, 2).steps()
+        Counted x = scanned(new Bytes().start(1, 2).steps()
                 .segment(82, 1, 0, 0, 1, 0, 1, 4, 4, 0, 1, 0, 33)
                 .segment(83, 1, 0, 3, 4, 4, 0, 1));
         for (int r = 0; r <= 32; r++) {
@@ -89,7 +89,7 @@ public final class Promise20MainPlanTest {
         for (int r = 0; r <= 32; r++) {
             told.u1(1 + r % 15 + 16 * (15 - r % 15));
         }
-        StreamMarks x = scanned(new Bytes().start(1, 1).segment(82, told.toArray()).steps());
+        Counted x = scanned(new Bytes().start(1, 1).segment(82, told.toArray()).steps());
         for (int r = 0; r <= 32; r++) {
             Check.same("pw", x.get(32, 0, r), 1 + r % 15);
             Check.same("ph", x.get(33, 0, r), 15 - r % 15);
@@ -98,7 +98,7 @@ public final class Promise20MainPlanTest {
 
     /** "a value is 256 times that; 0 .. 255" */
     static void valuesOfKindZero() {
-        StreamMarks x = scanned(new Bytes().start(1, 1).coding().segment(92, 0, 0, 1, 254, 255));
+        Counted x = scanned(new Bytes().start(1, 1).coding().segment(92, 0, 0, 1, 254, 255));
         int[] due = {0, 256, 65024, 65280, 0};
         for (int k = 0; k < due.length; k++) {
             Check.same("value", x.get(34, 0, k), due[k]);
@@ -107,7 +107,7 @@ public final class Promise20MainPlanTest {
     }
 
     static void valuesOfKindOne() {
-        StreamMarks x = scanned(new Bytes().start(1, 1).coding().segment(92, 225, 255, 255));
+        Counted x = scanned(new Bytes().start(1, 1).coding().segment(92, 225, 255, 255));
         Check.same("value 0", x.get(34, 0, 0), 65535);
         Check.same("value 1", x.get(34, 0, 1), 0);
         Check.same("guard", x.get(30, 0, 0), 7);
@@ -119,11 +119,11 @@ public final class Promise20MainPlanTest {
         for (int k = 0; k < 97; k++) {
             told.u2(65535 - k);
         }
-        StreamMarks x = scanned(new Bytes().start(1, 1).coding().segment(92, told.toArray()));
+        Counted x = scanned(new Bytes().start(1, 1).coding().segment(92, told.toArray()));
         for (int k = 0; k <= 96; k++) {
             Check.same("value", x.get(34, 0, k), 65535 - k);
         }
-        StreamMarks y = scanned(new Bytes().start(1, 1)
+        Counted y = scanned(new Bytes().start(1, 1)
                 .segment(82, 0, 0, 0, 1, 0, 32, 4, 4, 0, 1).segment(92, 66, 0, 9));
         Check.same("value 0", y.get(34, 0, 0), 9);
         for (int k = 1; k <= 96; k++) {
@@ -140,7 +140,7 @@ public final class Promise20MainPlanTest {
         int[][] its = {{1, 0, 7, 8, 9, 10}, {1, 1, 2, 3}, {1, 2, 0, 7, 0, 8, 0, 9, 0, 10}};
         int[][] due = {{1792, 2048, 2304, 2560}, {515}, {7, 8, 9, 10}};
         for (int kind = 0; kind <= 2; kind++) {
-            StreamMarks x = scanned(new Bytes().start(1, 2).segment(92, all.toArray())
+            Counted x = scanned(new Bytes().start(1, 2).segment(92, all.toArray())
                     .segment(93, its[kind]).coding());
             for (int k = 0; k <= 96; k++) {
                 int told = k < due[kind].length ? due[kind][k] : 0;
@@ -156,7 +156,7 @@ public final class Promise20MainPlanTest {
         for (int k = 0; k < 97; k++) {
             its.u2(65535 - k);
         }
-        StreamMarks x = scanned(new Bytes().main(1, 2).segment(93, its.toArray()));
+        Counted x = scanned(new Bytes().main(1, 2).segment(93, its.toArray()));
         for (int k = 0; k <= 96; k++) {
             Check.same("value " + k, x.get(34, 1, k), 65535 - k);
         }
@@ -166,7 +166,7 @@ public final class Promise20MainPlanTest {
     static void signedIsTheHighestBit() {
         int[][] due = {{0, 1, 0}, {37, 38, 0}, {128, 1, 1}, {165, 38, 1}};
         for (int[] d : due) {
-            StreamMarks x = scanned(new Bytes().start(1, 2).set(45, d[0]).coding().steps());
+            Counted x = scanned(new Bytes().start(1, 2).set(45, d[0]).coding().steps());
             Check.same("bits", x.get(20, 1, 0), d[1]);
             Check.same("signed", x.get(21, 1, 0), d[2]);
             Check.same("of the other", x.get(20, 0, 0), 8);
@@ -175,7 +175,7 @@ public final class Promise20MainPlanTest {
 
     /** Each number of SIZE at its own place, over all four bytes; steps of components, too. */
     static void theNumbersOfSizeInTheirOrder() {
-        StreamMarks x = scanned(new Bytes().mark(79).mark(81).u2(44).u2(65535).u4(0x51627384)
+        Counted x = scanned(new Bytes().mark(79).mark(81).u2(44).u2(65535).u4(0x51627384)
                 .u4(0x61728394).u4(0x11223344).u4(0x21324354).u4(0x51525354).u4(0x61626364)
                 .u4(0x01020304).u4(0x05060708).u2(2).u1(0, 1, 255).u1(165, 255, 2).coding()
                 .steps());
@@ -189,7 +189,7 @@ public final class Promise20MainPlanTest {
     }
 
     static void shiftsOfTheLeastAndGreatest() {
-        StreamMarks x = scanned(new Bytes().main(1, 3).segment(94, 2, 0, 37)
+        Counted x = scanned(new Bytes().main(1, 3).segment(94, 2, 0, 37)
                 .segment(94, 0, 0, 0));
         Check.same("0", x.get(31, 0, 0), 0);
         Check.same("none", x.get(31, 1, 0), 0);
@@ -199,7 +199,7 @@ public final class Promise20MainPlanTest {
     static void noChangesToldAndNoneAtAll() {
         Check.same("none told", scanned(new Bytes().main(1, 1).segment(95)).get(14, 0, 0), 0);
         Check.same("none", scanned(new Bytes().main(1, 1)).get(14, 0, 0), 0);
-        StreamMarks x = scanned(new Bytes().main(1, 1)
+        Counted x = scanned(new Bytes().main(1, 1)
                 .segment(95, 0, 0, 0, 1, 1, 1, 0, 32, 255, 255, 255, 33, 0, 4));
         int[] due = {0, 0, 1, 1, 1, 0, 32, 255, 65535, 33, 256, 4};
         for (int i = 0; i < due.length; i++) {
@@ -211,8 +211,8 @@ public final class Promise20MainPlanTest {
     static void nothingOfTheTiles() {
         Bytes own = new Bytes().segment(82, 6, 4, 0, 9, 1, 3, 0, 0, 9, 0).segment(92, 33, 1, 1)
                 .segment(94, 0, 0, 5).segment(95, 0, 0, 0, 1, 1, 1, 0);
-        StreamMarks x = new Bytes().main(1, 1).part(0, 14 + own.size(), 0, 0).add(own).mark(147)
-                .end().feed(new StreamMarks());
+        Counted x = new Bytes().main(1, 1).part(0, 14 + own.size(), 0, 0).add(own).mark(147)
+                .end().feed(new Counted());
         Check.same("scan", x.scan(), 0);
         check("component", x, 0, 8, 0, 1, 1, 0, 6, 6, 0, 1, 0, 2, 0);
         int[] general = {0, 1, 0, 0, 0, 0};
@@ -228,7 +228,7 @@ public final class Promise20MainPlanTest {
             x.spoil(x.at(-1) - 1, 216);
         };
         Twin.planAndBytesStay("scan", x -> Check.same("scan", x.scan(), 1), state);
-        StreamMarks x = Made.with(state);
+        Counted x = Made.with(state);
         Check.same("refused", x.scan(), 1);
         Check.refuses("found", IllegalStateException.class, () -> x.found(-1, 0));
         x.spoil(x.at(-1) - 1, 217);
@@ -240,7 +240,7 @@ public final class Promise20MainPlanTest {
 
     static void aScannedStreamMayBeScannedAgain() {
         Twin.streamStays("again", x -> Check.same("scan", x.scan(), 0), Made::scanned);
-        StreamMarks x = Made.with(Made::scanned);
+        Counted x = Made.with(Made::scanned);
         x.scan();
         Check.same("layers of the main plan", x.get(10, 0, 0), 1);
     }

@@ -31,7 +31,7 @@ public final class Promise20MissingTest {
 
     /** Those of an earlier scan are not there. */
     static void notThoseOfAnEarlierStream() {
-        StreamMarks x = Made.with(Made::scanned);
+        Counted x = Made.with(Made::scanned);
         new Bytes().start(2, 2).barePart(0, 0, 0).barePart(1, 0, 0).end().feed(x);
         Check.same("scan", x.scan(), 6);
         Check.same("place", x.place(), 48);
@@ -120,7 +120,7 @@ public final class Promise20MissingTest {
 
     /** What was counted by a scan that was refused is not counted again. */
     static void notThePartsOfAnEarlierScan() {
-        StreamMarks x = main1().barePart(0, 0, 2).end().feed(new StreamMarks());
+        Counted x = main1().barePart(0, 0, 2).end().feed(new Counted());
         Check.same("1 of 2", x.scan(), 6);
         Check.same("again", x.scan(), 6);
         x.spoil(65 + 11, 1);

@@ -128,7 +128,7 @@ public final class Promise20TwiceTest {
 
     /** A stream that is scanned again, or behind a refused one, finds nothing of before. */
     static void nothingOfAnEarlierScan() {
-        StreamMarks x = new StreamMarks();
+        Counted x = new Counted();
         Bytes all = new Bytes().main(2, 3);
         int[] marks = {83, 93, 94, 95};
         for (int m : marks) {

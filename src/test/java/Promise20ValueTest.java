@@ -25,7 +25,7 @@ public final class Promise20ValueTest {
         }
         x.end();
         x.accepted("SIZE " + java.util.Arrays.toString(n));
-        StreamMarks y = x.feed(new StreamMarks());
+        Counted y = x.feed(new Counted());
         Check.same("scan", y.scan(), 0);
         for (int what = 0; what < 8; what++) {
             Check.same("get(" + what + ")", y.get(what, 0, 0), n[what]);
@@ -405,6 +405,37 @@ public final class Promise20ValueTest {
                 .refused("1 in the second part, but first", 5, 91);
         main1().barePart(0, 0, 0).part(0, 19, 1, 0).segment(97, 0).mark(147).end()
                 .accepted("0 in the second part");
+    }
+
+    /** 255 is the last number; behind it there is no value, 0 is not the next one. */
+    static void numbersOfHeadsUpTo255() {
+        for (int m = 96; m <= 97; m++) {
+            Counted x = new Counted();
+            Made.manyHeads(x, m);
+            endBehindHeads(x, m);
+            Check.same("256 segments " + m, x.scan(), 0);
+            Check.same("their bytes", x.use(0), m == 96 ? 252 : 256);
+            Check.same("the last byte", x.head(0, m == 96 ? 251 : 255), 131);
+            int[] numbers = {0, 1, 255};
+            for (int n : numbers) {
+                Counted y = new Counted();
+                Made.manyHeads(y, m);
+                int place = y.at(-1);
+                new Bytes().segment(m, n).feedMore(y);
+                endBehindHeads(y, m);
+                Check.same("a 257th segment " + m, y.scan(), 5);
+                Check.same("its place", y.place(), place);
+            }
+        }
+    }
+
+    private static void endBehindHeads(Counted x, int m) {
+        if (m == 96) {
+            x.part(0, 0, 0, 0);
+        } else {
+            x.mark(147);
+        }
+        x.mark(217);
     }
 
     static void aPartsTileIsThere() {

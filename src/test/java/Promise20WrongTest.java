@@ -147,7 +147,7 @@ public final class Promise20WrongTest {
             x.mark(217);
         };
         Twin.planAndBytesStay("scan", x -> Check.same("scan", x.scan(), 2), state);
-        StreamMarks x = Made.with(Made::scanned);
+        Counted x = Made.with(Made::scanned);
         x.spoil(2, 254);
         Check.same("a stream that was taken before", x.scan(), 2);
         Check.same("place", x.place(), 2);

@@ -9,7 +9,7 @@ public final class Promise21PlaceTest {
     }
 
     static void noScan() {
-        StreamMarks x = new StreamMarks();
+        Counted x = new Counted();
         Check.same("new", x.place(), -1);
         x.mark(79);
         x.put(9);
@@ -19,7 +19,7 @@ public final class Promise21PlaceTest {
     }
 
     static void aScanThatDidNotRefuse() {
-        StreamMarks x = Made.with(Made::scanned);
+        Counted x = Made.with(Made::scanned);
         Check.same("taken", x.place(), -1);
         x.spoil(0, 0);
         Check.same("spoiled", x.place(), -1);
@@ -51,7 +51,7 @@ public final class Promise21PlaceTest {
     }
 
     static void theLastPlaceOfAFullStream() {
-        StreamMarks x = new StreamMarks();
+        Counted x = new Counted();
         Made.great(x);
         x.write();
         x.part(0, 0, 0, Made.MOST_BYTES - Made.GREAT_BYTES - 14 - 1);
@@ -73,18 +73,18 @@ public final class Promise21PlaceTest {
 
     /** "whatever came since": each other call, that throws or not. */
     static void whateverCameSince() {
-        Use[] calls = {StreamMarks::plan, x -> x.picture(0, 0, 1, 1), x -> x.tiles(0, 0, 9, 9),
+        Use[] calls = {Counted::plan, x -> x.picture(0, 0, 1, 1), x -> x.tiles(0, 0, 9, 9),
             x -> x.component(1, false, 1, 1), x -> x.general(0, 1, false, false, false),
             x -> x.coding(0, 0, 6, 6, 0, true), x -> x.precincts(0, 0, 1, 1),
             x -> x.steps(0, 0, 0, 0), x -> x.step(0, 0, 0), x -> x.change(0, 0, 1, 1, 1, 0),
-            x -> x.get(0, 0, 0), StreamMarks::clear, x -> x.put(0), x -> x.at(-1),
-            StreamMarks::write, x -> x.part(0, 0, 0, 0), x -> x.mark(0), x -> x.spoil(0, 0),
-            StreamMarks::place, x -> x.use(0), x -> x.head(0, 0), x -> x.found(-1, 0),
+            x -> x.get(0, 0, 0), Counted::clear, x -> x.put(0), x -> x.at(-1),
+            Counted::write, x -> x.part(0, 0, 0, 0), x -> x.mark(0), x -> x.spoil(0, 0),
+            Counted::place, x -> x.use(0), x -> x.head(0, 0), x -> x.found(-1, 0),
             x -> x.put(256), x -> x.picture(0, 0, 0, 0), x -> x.get(99, 0, 0),
             x -> x.spoil(99, 0), x -> x.part(-1, 0, 0, 0)};
         for (int i = 0; i < calls.length; i++) {
-            StreamMarks refused = Made.with(Made::rich);
-            StreamMarks taken = Made.with(Made::scanned);
+            Counted refused = Made.with(Made::rich);
+            Counted taken = Made.with(Made::scanned);
             int call = i;
             Check.nameOfThrown(() -> calls[call].on(refused));
             Check.nameOfThrown(() -> calls[call].on(taken));
@@ -95,7 +95,7 @@ public final class Promise21PlaceTest {
 
     /** Only another scan tells another place. */
     static void theLatestScan() {
-        StreamMarks x = Made.with(Made::rich);
+        Counted x = Made.with(Made::rich);
         Check.same("refused", x.place(), 2);
         x.clear();
         Check.same("cleared", x.place(), 2);

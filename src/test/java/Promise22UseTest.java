@@ -6,19 +6,19 @@ public final class Promise22UseTest {
         Check.runAll(Promise22UseTest.class);
     }
 
-    private static StreamMarks scanned(Bytes bytes) {
-        StreamMarks x = bytes.feed(new StreamMarks());
+    private static Counted scanned(Bytes bytes) {
+        Counted x = bytes.feed(new Counted());
         Check.same("scan", x.scan(), 0);
         return x;
     }
 
     /** Main segments of two tiles, of which tile 1 has segments of its own. */
-    private static StreamMarks ofTile1(Bytes main, Bytes own) {
+    private static Counted ofTile1(Bytes main, Bytes own) {
         return scanned(main.barePart(0, 0, 0).part(1, 14 + own.size(), 0, 0).add(own).mark(147)
                 .end());
     }
 
-    private static void check(String what, StreamMarks x, int number, int... due) {
+    private static void check(String what, Counted x, int number, int... due) {
         for (int c = 0; c < due.length; c++) {
             Check.same(what + " get(" + number + ", " + c + ")", x.get(number, c, 0), due[c]);
         }
@@ -45,7 +45,7 @@ public final class Promise22UseTest {
             Twin.none("use(" + tile + ")", x -> x.use(tile), Made::scanned,
                     Made::scannedHeadsOfAll);
         }
-        StreamMarks x = Made.with(Made::scanned);
+        Counted x = Made.with(Made::scanned);
         Check.same("use(0)", x.use(0), 0);
         Check.same("use(1)", x.use(1), 2);
     }
@@ -69,7 +69,7 @@ public final class Promise22UseTest {
             all.part(63, 21, 0, 1).segment(94, 0, 0, 29).mark(147).end().feed(x);
             x.scan();
         };
-        StreamMarks x = Made.with(many);
+        Counted x = Made.with(many);
         Check.same("use(63)", x.use(63), 0);
         Check.same("its shift", x.get(31, 0, 0), 29);
         Check.same("use(62)", x.use(62), 0);
@@ -80,7 +80,7 @@ public final class Promise22UseTest {
 
     /** The tiles are those of the stream, whatever the plan is now. */
     static void tilesOfTheStreamNotOfThePlan() {
-        StreamMarks x = Made.with(Made::scanned);
+        Counted x = Made.with(Made::scanned);
         x.plan();
         Check.same("use(1)", x.use(1), 2);
         Check.same("components", x.get(8, 0, 0), 2);
@@ -120,7 +120,7 @@ public final class Promise22UseTest {
 
     /** Main CODING, main ITS CODING, the tile's CODING, the tile's ITS CODING: the last counts. */
     static void theTilesCodingCountsForAllAgain() {
-        StreamMarks x = ofTile1(mainOfAll(), new Bytes().segment(82, 6, 2, 0, 7, 1, 9, 4, 4, 0, 1));
+        Counted x = ofTile1(mainOfAll(), new Bytes().segment(82, 6, 2, 0, 7, 1, 9, 4, 4, 0, 1));
         check("main levels", x, 24, 3, 5, 3);
         x.use(1);
         check("levels", x, 24, 9, 9, 9);
@@ -135,18 +135,18 @@ public final class Promise22UseTest {
     }
 
     static void theTilesItsCodingCountsForOne() {
-        StreamMarks x = ofTile1(mainOfAll(), new Bytes().segment(83, 2, 0, 8, 4, 4, 0, 1));
+        Counted x = ofTile1(mainOfAll(), new Bytes().segment(83, 2, 0, 8, 4, 4, 0, 1));
         x.use(1);
         check("levels", x, 24, 3, 5, 8);
         Check.same("order", x.get(9, 0, 0), 1);
-        StreamMarks y = ofTile1(mainOfAll(), new Bytes().segment(83, 2, 0, 8, 4, 4, 0, 1)
+        Counted y = ofTile1(mainOfAll(), new Bytes().segment(83, 2, 0, 8, 4, 4, 0, 1)
                 .segment(82, 0, 0, 0, 1, 0, 9, 4, 4, 0, 1));
         y.use(1);
         check("levels, its before that of all", y, 24, 9, 9, 8);
     }
 
     static void theTilesStepsCountForAllAgain() {
-        StreamMarks x = ofTile1(mainOfAll(), new Bytes().segment(92, 224, 9));
+        Counted x = ofTile1(mainOfAll(), new Bytes().segment(92, 224, 9));
         check("main guard", x, 30, 2, 3, 2);
         x.use(1);
         check("guard", x, 30, 7, 7, 7);
@@ -155,12 +155,12 @@ public final class Promise22UseTest {
     }
 
     static void theTilesItsStepsCountForOne() {
-        StreamMarks x = ofTile1(mainOfAll(), new Bytes().segment(93, 0, 33, 1, 1));
+        Counted x = ofTile1(mainOfAll(), new Bytes().segment(93, 0, 33, 1, 1));
         x.use(1);
         check("kind", x, 29, 1, 0, 0);
         check("guard", x, 30, 1, 3, 2);
         check("value", x, 34, 257, 512, 256);
-        StreamMarks y = ofTile1(mainOfAll(), new Bytes().segment(93, 0, 33, 1, 1)
+        Counted y = ofTile1(mainOfAll(), new Bytes().segment(93, 0, 33, 1, 1)
                 .segment(92, 224, 9));
         y.use(1);
         check("guard, its before that of all", y, 30, 1, 7, 7);
@@ -171,7 +171,7 @@ public final class Promise22UseTest {
         Bytes main = new Bytes().start(2, 1)
                 .segment(82, 1, 0, 0, 1, 0, 2, 4, 4, 0, 1, 17, 17, 17)
                 .segment(92, 66, 0, 1, 0, 2, 0, 3, 0, 4);
-        StreamMarks x = ofTile1(main, new Bytes().segment(82, 0, 0, 0, 1, 0, 2, 4, 4, 0, 1)
+        Counted x = ofTile1(main, new Bytes().segment(82, 0, 0, 0, 1, 0, 2, 4, 4, 0, 1)
                 .segment(92, 66, 0, 9));
         Check.same("main pw", x.get(32, 0, 2), 1);
         Check.same("main value", x.get(34, 0, 3), 4);
@@ -191,7 +191,7 @@ public final class Promise22UseTest {
         Bytes main = new Bytes().start(2, 2)
                 .segment(82, 1, 0, 0, 1, 0, 2, 4, 4, 0, 1, 17, 17, 17)
                 .segment(92, 66, 0, 1, 0, 2, 0, 3, 0, 4);
-        StreamMarks x = ofTile1(main, new Bytes().segment(83, 1, 0, 2, 4, 4, 0, 1)
+        Counted x = ofTile1(main, new Bytes().segment(83, 1, 0, 2, 4, 4, 0, 1)
                 .segment(93, 1, 66, 0, 9));
         x.use(1);
         for (int r = 0; r <= 32; r++) {
@@ -208,7 +208,7 @@ public final class Promise22UseTest {
     /** "a SHIFT of the tile instead of the main one of that component" */
     static void aShiftOfTheTile() {
         Bytes main = new Bytes().main(2, 3).segment(94, 0, 0, 5).segment(94, 1, 0, 6);
-        StreamMarks x = ofTile1(main, new Bytes().segment(94, 1, 0, 0).segment(94, 2, 0, 37));
+        Counted x = ofTile1(main, new Bytes().segment(94, 1, 0, 0).segment(94, 2, 0, 37));
         check("main", x, 31, 5, 6, 0);
         x.use(1);
         check("tile 1", x, 31, 5, 0, 37);
@@ -223,7 +223,7 @@ public final class Promise22UseTest {
         for (int[] told : own) {
             Bytes main = new Bytes().main(2, 1)
                     .segment(95, 0, 0, 0, 1, 1, 1, 0, 0, 0, 0, 2, 2, 2, 1);
-            StreamMarks x = ofTile1(main, new Bytes().segment(95, told));
+            Counted x = ofTile1(main, new Bytes().segment(95, told));
             Check.same("main", x.get(14, 0, 0), 2);
             x.use(1);
             int count = told.length / 7;
@@ -244,7 +244,7 @@ public final class Promise22UseTest {
         for (int c = 0; c < 16; c++) {
             own.segment(94, c, 0, 20 + c);
         }
-        StreamMarks x = ofTile1(new Bytes().main(2, 16), own);
+        Counted x = ofTile1(new Bytes().main(2, 16), own);
         x.use(1);
         for (int c = 0; c < 16; c++) {
             Check.same("shift", x.get(31, c, 0), 20 + c);
@@ -257,7 +257,7 @@ public final class Promise22UseTest {
 
     /** The tile of an earlier stream had segments, that of this one has none. */
     static void nothingOfAnEarlierStream() {
-        StreamMarks x = ofTile1(mainOfAll(), new Bytes().segment(94, 0, 0, 9).segment(95)
+        Counted x = ofTile1(mainOfAll(), new Bytes().segment(94, 0, 0, 9).segment(95)
                 .segment(82, 6, 2, 0, 7, 1, 9, 4, 4, 0, 1).segment(92, 224, 9));
         x.use(1);
         Check.same("shift", x.get(31, 0, 0), 9);

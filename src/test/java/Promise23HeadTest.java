@@ -10,7 +10,7 @@ public final class Promise23HeadTest {
     }
 
     private static void check(String what, Bytes bytes, int[]... due) {
-        StreamMarks x = bytes.feed(new StreamMarks());
+        Counted x = bytes.feed(new Counted());
         Check.same(what + ": scan", x.scan(), 0);
         for (int tile = 0; tile < due.length; tile++) {
             int t = tile;
@@ -51,7 +51,7 @@ public final class Promise23HeadTest {
     }
 
     static void theByteIsThere() {
-        StreamMarks x = Made.with(Made::scanned);
+        Counted x = Made.with(Made::scanned);
         Check.same("the first", x.head(1, 0), 10);
         Check.same("the last", x.head(1, 1), 11);
         int[] none = {2, 3, -1, -2, MOST, LEAST};
@@ -61,7 +61,7 @@ public final class Promise23HeadTest {
             Twin.none("byte " + i + " of all", y -> y.head(1, i), Made::scannedHeadsOfAll);
         }
         Twin.none("byte 0 of none", y -> y.head(0, 0), Made::scanned);
-        StreamMarks z = Made.with(Made::scannedHeadsOfAll);
+        Counted z = Made.with(Made::scannedHeadsOfAll);
         Check.same("of all, tile 1", z.head(1, 1), 32);
         Check.same("of all, tile 0", z.head(0, 0), 33);
         Twin.none("of all, behind tile 0's", y -> y.head(0, 1), Made::scannedHeadsOfAll);
@@ -71,7 +71,7 @@ public final class Promise23HeadTest {
     static void askingChangesNothing() {
         Twin.streamStays("head", x -> x.head(1, 0), Made::scanned);
         Twin.planAndPlaceStay("head", x -> x.head(1, 0), Made::scanned);
-        StreamMarks x = Made.with(Made::scanned);
+        Counted x = Made.with(Made::scanned);
         x.plan();
         Check.same("behind plan()", x.head(1, 1), 11);
     }
@@ -170,8 +170,8 @@ public final class Promise23HeadTest {
             heads.u1(255 - k);
         }
         heads.u4(1).u1(77);
-        StreamMarks x = new Bytes().main(2, 1).segment(96, heads.toArray()).barePart(0, 0, 0)
-                .barePart(1, 0, 0).end().feed(new StreamMarks());
+        Counted x = new Bytes().main(2, 1).segment(96, heads.toArray()).barePart(0, 0, 0)
+                .barePart(1, 0, 0).end().feed(new Counted());
         Check.same("scan", x.scan(), 0);
         Check.same("use(0)", x.use(0), 256);
         Check.same("the first", x.head(0, 0), 255);
@@ -183,7 +183,7 @@ public final class Promise23HeadTest {
 
     /** The stream before had heads; this one has none, or others. */
     static void nothingOfAnEarlierStream() {
-        StreamMarks x = Made.with(Made::scannedHeadsOfAll);
+        Counted x = Made.with(Made::scannedHeadsOfAll);
         new Bytes().main(2, 1).barePart(1, 0, 0).barePart(0, 0, 0).end().feed(x);
         Check.same("scan", x.scan(), 0);
         Check.same("use(1)", x.use(1), 0);
@@ -207,7 +207,7 @@ public final class Promise23HeadTest {
 
     /** The scan before was refused behind heads that it had read. */
     static void nothingOfARefusedScan() {
-        StreamMarks x = ofAll(0, 0, 0, 1, 4, 0, 0, 0, 1, 5).feed(new StreamMarks());
+        Counted x = ofAll(0, 0, 0, 1, 4, 0, 0, 0, 1, 5).feed(new Counted());
         x.spoil(x.at(-1) - 1, 216);
         Check.same("refused", x.scan(), 1);
         x.spoil(x.at(-1) - 1, 217);

@@ -8,7 +8,7 @@ public final class Promise24FoundTest {
     }
 
     private static void check(String what, Bytes bytes, int[]... due) {
-        StreamMarks x = bytes.feed(new StreamMarks());
+        Counted x = bytes.feed(new Counted());
         Check.same(what + ": scan", x.scan(), 0);
         Check.same(what + ": found(-1)", x.found(-1, 0), due.length);
         for (int k = 0; k < due.length; k++) {
@@ -38,7 +38,7 @@ public final class Promise24FoundTest {
     }
 
     static void howManyForAnyWhat() {
-        StreamMarks x = Made.with(Made::scanned);
+        Counted x = Made.with(Made::scanned);
         int[] any = {0, 4, 5, -1, 99, MOST, LEAST};
         for (int what : any) {
             Check.same("found(-1, " + what + ")", x.found(-1, what), 3);
@@ -46,7 +46,7 @@ public final class Promise24FoundTest {
     }
 
     static void thePartIsThere() {
-        StreamMarks x = Made.with(Made::scanned);
+        Counted x = Made.with(Made::scanned);
         Check.same("the first", x.found(0, 0), 1);
         Check.same("the last", x.found(2, 1), 1);
         int[] none = {3, 4, -2, 255, 256, MOST, LEAST, 613566757, 1227133514};
@@ -56,7 +56,7 @@ public final class Promise24FoundTest {
     }
 
     static void whatFromZeroTo4() {
-        StreamMarks x = Made.with(Made::scanned);
+        Counted x = Made.with(Made::scanned);
         int[][] due = {{1, 0, 2, 128, 0}, {0, 0, 0, 142, 0}, {1, 1, 0, 156, 2}};
         for (int k = 0; k < 3; k++) {
             for (int what = 0; what <= 4; what++) {
@@ -121,7 +121,7 @@ public final class Promise24FoundTest {
             x.mark(217);
             x.scan();
         };
-        StreamMarks x = Made.with(state);
+        Counted x = Made.with(state);
         Check.same("how many", x.found(-1, 0), 256);
         Check.same("part", x.found(255, 1), 255);
         Check.same("place", x.found(255, 3), 65 + 256 * 14);
@@ -132,7 +132,7 @@ public final class Promise24FoundTest {
     }
 
     static void ofAFullStream() {
-        StreamMarks x = Made.with(Made::fullAndScanned);
+        Counted x = Made.with(Made::fullAndScanned);
         Check.same("how many", x.found(-1, 0), 1);
         Check.same("place", x.found(0, 3), Made.GREAT_BYTES + 14);
         Check.same("bytes", x.found(0, 4), Made.MOST_BYTES - Made.GREAT_BYTES - 16);
@@ -145,7 +145,7 @@ public final class Promise24FoundTest {
 
     /** Of a stream with fewer parts than the one before. */
     static void nothingOfAnEarlierStream() {
-        StreamMarks x = Made.with(Made::scanned);
+        Counted x = Made.with(Made::scanned);
         new Bytes().main(1, 1).part(0, 16, 0, 1).mark(147).u1(1, 2).end().feed(x);
         Check.same("scan", x.scan(), 0);
         Check.same("how many", x.found(-1, 0), 1);

@@ -24,14 +24,14 @@ public final class StreamTest {
         Check.end("StreamTest");
     }
 
-    private static StreamMarks scanned() {
-        StreamMarks x = new Bytes().main(1, 1).barePart(0, 0, 1).end().feed(new StreamMarks());
+    private static Counted scanned() {
+        Counted x = new Bytes().main(1, 1).barePart(0, 0, 1).end().feed(new Counted());
         Check.same("scan()", x.scan(), 0);
         Check.same("found()", x.found(-1, 0), 1);
         return x;
     }
 
-    private static void checkBytes(String when, StreamMarks x, int... due) {
+    private static void checkBytes(String when, Counted x, int... due) {
         Check.same(when + " size", x.at(-1), due.length);
         for (int k = 0; k < due.length && k < x.at(-1); k++) {
             Check.same(when + " at(" + k + ")", x.at(k), due[k]);
@@ -39,7 +39,7 @@ public final class StreamTest {
     }
 
     private static void clear() {
-        StreamMarks x = scanned();
+        Counted x = scanned();
         x.clear();
         Check.same("13 empty", x.at(-1), 0);
         Check.refuses("13 not scanned", STATE, () -> x.found(-1, 0));
@@ -49,13 +49,13 @@ public final class StreamTest {
     }
 
     private static void put() {
-        StreamMarks x = new StreamMarks();
+        Counted x = new Counted();
         Check.refuses("14 -1", ARGUMENT, () -> x.put(-1));
         Check.refuses("14 256", ARGUMENT, () -> x.put(256));
         Check.same("14 first", x.put(0), 1);
         Check.same("14 second", x.put(255), 2);
         checkBytes("14", x, 0, 255);
-        StreamMarks y = scanned();
+        Counted y = scanned();
         Check.refuses("14 wrong", ARGUMENT, () -> y.put(999));
         Check.same("14 still scanned", y.found(-1, 0), 1);
         y.put(1);
@@ -63,7 +63,7 @@ public final class StreamTest {
     }
 
     private static void at() {
-        StreamMarks x = new StreamMarks();
+        Counted x = new Counted();
         Check.refuses("15 none", NONE, () -> x.at(0));
         x.put(128);
         Check.same("15 at(0)", x.at(0), 128);
@@ -80,7 +80,7 @@ public final class StreamTest {
     }
 
     private static void writeSmall() {
-        StreamMarks x = new StreamMarks();
+        Counted x = new Counted();
         x.picture(1, 2, 0x01020304, 0x7f000001);
         x.tiles(0, 1, 0x05060708, 0x7fffffff);
         x.component(12, true, 3, 255);
@@ -96,7 +96,7 @@ public final class StreamTest {
     }
 
     private static void writeOthers() {
-        StreamMarks x = new StreamMarks();
+        Counted x = new Counted();
         x.picture(0, 0, 4, 4);
         for (int c = 0; c < 6; c++) {
             x.component(8, false, 1, 1);
@@ -132,7 +132,7 @@ public final class StreamTest {
         Check.same("16 others", x.write(), due.size());
         checkBytes("16 others", x, due.toArray());
 
-        StreamMarks y = new StreamMarks();
+        Counted y = new Counted();
         y.picture(0, 0, 4, 4);
         y.component(8, false, 1, 1);
         y.component(8, false, 1, 1);
@@ -152,17 +152,17 @@ public final class StreamTest {
     private static void writeOneUnlike() {
         int[][] codings = {{2, 5, 5, 7}, {1, 4, 5, 7}, {1, 5, 4, 7}, {1, 5, 5, 6}, {1, 5, 5, 7}};
         for (int[] c : codings) {
-            StreamMarks x = twoComponents();
+            Counted x = twoComponents();
             x.coding(1, c[0], c[1], c[2], c[3], false);
             int more = c[0] == 2 ? 11 + 13 : c[1] + c[2] + c[3] == 17 ? 0 : 11;
             Check.same("16 unlike coding", x.write(), 48 + 14 + 9 + more);
         }
-        StreamMarks exact = twoComponents();
+        Counted exact = twoComponents();
         exact.coding(1, 1, 5, 5, 7, true);
         Check.same("16 unlike exact", exact.write(), 48 + 14 + 9 + 11);
         int[][] exponents = {{0, 14, 15}, {0, 15, 14}, {1, 14, 15}, {1, 15, 14}};
         for (int[] e : exponents) {
-            StreamMarks x = twoComponents();
+            Counted x = twoComponents();
             x.precincts(1, e[0], e[1], e[2]);
             Check.same("16 unlike precinct", x.write(), 48 + 14 + 9 + 13);
             x.precincts(0, e[0], e[1], e[2]);
@@ -170,20 +170,20 @@ public final class StreamTest {
         }
         int[][] steps = {{0, 3}, {1, 2}, {2, 2}};
         for (int[] t : steps) {
-            StreamMarks x = twoComponents();
+            Counted x = twoComponents();
             x.steps(1, t[0], t[1], 0);
             int values = t[0] == 0 ? 4 : t[0] == 1 ? 2 : 8;
             Check.same("16 unlike steps", x.write(), 48 + 14 + 9 + 6 + values);
         }
         for (int k = 0; k < 5; k++) {
-            StreamMarks x = twoComponents();
+            Counted x = twoComponents();
             x.step(1, k, 256);
             Check.same("16 unlike value", x.write(), 48 + 14 + 9 + (k < 4 ? 10 : 0));
         }
     }
 
-    private static StreamMarks twoComponents() {
-        StreamMarks x = new StreamMarks();
+    private static Counted twoComponents() {
+        Counted x = new Counted();
         x.picture(0, 0, 4, 4);
         for (int c = 0; c < 2; c++) {
             x.component(8, false, 1, 1);
@@ -195,7 +195,7 @@ public final class StreamTest {
     /** What a scan read is written again, an end of 256 components as 0. */
     private static void writeScanned() {
         Bytes main = new Bytes().main(1, 1).segment(95, 0, 255, 255, 255, 33, 0, 4);
-        StreamMarks x = new Bytes().add(main).barePart(0, 0, 0).end().feed(new StreamMarks());
+        Counted x = new Bytes().add(main).barePart(0, 0, 0).end().feed(new Counted());
         Check.same("16 scan", x.scan(), 0);
         x.clear();
         x.write();
@@ -203,7 +203,7 @@ public final class StreamTest {
     }
 
     private static void writeRefused() {
-        StreamMarks x = scanned();
+        Counted x = scanned();
         x.plan();
         x.component(8, false, 1, 1);
         Check.refuses("16 no picture", STATE, x::write);
@@ -216,8 +216,8 @@ public final class StreamTest {
         Check.refuses("16 not scanned", STATE, () -> x.found(-1, 0));
     }
 
-    private static StreamMarks greatPlan() {
-        StreamMarks x = new StreamMarks();
+    private static Counted greatPlan() {
+        Counted x = new Counted();
         x.picture(0, 0, 4, 4);
         for (int c = 0; c < 16; c++) {
             x.component(8, false, 1, 1);
@@ -233,7 +233,7 @@ public final class StreamTest {
     }
 
     private static void full() {
-        StreamMarks x = greatPlan();
+        Counted x = greatPlan();
         int once = 2 + 88 + 47 + 199 + 15 * 44 + 15 * 200 + 16 * 7 + 228;
         for (int n = 1; n <= 65536 / once; n++) {
             Check.same("16 great", x.write(), once);
@@ -264,7 +264,7 @@ public final class StreamTest {
         x.spoil(65535, 78);
         Check.same("19 the last", x.at(65535), 78);
 
-        StreamMarks y = greatPlan();
+        Counted y = greatPlan();
         for (int n = 1; n <= 65536 / once; n++) {
             y.write();
         }
@@ -283,7 +283,7 @@ public final class StreamTest {
     }
 
     private static void part() {
-        StreamMarks x = scanned();
+        Counted x = scanned();
         int[][] bad = {{-1, 0, 0, 0}, {0, -1, 0, 0}, {0, 0, -1, 0}, {0, 0, 0, -1},
             {65536, 0, 0, 0}, {0, 256, 0, 0}, {0, 0, 256, 0}, {0, 0, 0, 65537}};
         for (int[] p : bad) {
@@ -300,7 +300,7 @@ public final class StreamTest {
     }
 
     private static void mark() {
-        StreamMarks x = scanned();
+        Counted x = scanned();
         Check.refuses("18 -1", ARGUMENT, () -> x.mark(-1));
         Check.refuses("18 256", ARGUMENT, () -> x.mark(256));
         Check.same("18 still scanned", x.found(-1, 0), 1);
@@ -314,7 +314,7 @@ public final class StreamTest {
     }
 
     private static void spoil() {
-        StreamMarks x = scanned();
+        Counted x = scanned();
         int size = x.at(-1);
         Check.refuses("19 beyond", NONE, () -> x.spoil(size, 1));
         Check.refuses("19 -1", NONE, () -> x.spoil(-1, 1));

@@ -19,13 +19,13 @@ public final class TileTest {
         Check.end("TileTest");
     }
 
-    private static void checkGets(String when, StreamMarks x, int what, int... due) {
+    private static void checkGets(String when, Counted x, int what, int... due) {
         for (int c = 0; c < due.length; c++) {
             Check.same(when + " get(" + what + ", " + c + ")", x.get(what, c, 0), due[c]);
         }
     }
 
-    private static StreamMarks richStream() {
+    private static Counted richStream() {
         Bytes main = new Bytes().start(3, 3)
                 .segment(83, 1, 1, 1, 0, 0, 1, 0, 18, 52)
                 .segment(82, 2, 1, 0, 10, 0, 3, 4, 4, 2, 1)
@@ -47,13 +47,13 @@ public final class TileTest {
                 .part(1, 14 + one.size(), 0, 0).add(one).mark(147)
                 .part(0, 14 + zero.size(), 0, 0).add(zero).mark(147)
                 .part(2, 14 + two.size(), 0, 0).add(two).mark(147).end();
-        StreamMarks x = all.feed(new StreamMarks());
+        Counted x = all.feed(new Counted());
         Check.same("22 scan", x.scan(), 0);
         return x;
     }
 
     private static void usePlans() {
-        StreamMarks x = richStream();
+        Counted x = richStream();
         checkMain("22 main", x);
         Check.same("22 use(1)", x.use(1), 0);
         checkGets("22 tile 1 levels", x, 24, 9, 0, 0);
@@ -92,7 +92,7 @@ public final class TileTest {
         checkMain("22 main again", x);
     }
 
-    private static void checkMain(String when, StreamMarks x) {
+    private static void checkMain(String when, Counted x) {
         checkGets(when + " levels", x, 24, 3, 1, 3);
         checkGets(when + " pw", x, 32, 15, 2, 15);
         checkGets(when + " ph", x, 33, 15, 1, 15);
@@ -110,7 +110,7 @@ public final class TileTest {
     }
 
     private static void useRefused() {
-        StreamMarks x = richStream();
+        Counted x = richStream();
         Check.refuses("22 use(3)", NONE, () -> x.use(3));
         Check.refuses("22 use(-1)", NONE, () -> x.use(-1));
         Check.refuses("22 use(65536)", NONE, () -> x.use(65536));
@@ -127,7 +127,7 @@ public final class TileTest {
 
     /** The plan of a tile is made of the stream, whatever the plan is now. */
     private static void useAfterOtherPlans() {
-        StreamMarks x = richStream();
+        Counted x = richStream();
         x.plan();
         x.picture(0, 0, 1, 1);
         x.component(3, true, 1, 1);
@@ -157,8 +157,8 @@ public final class TileTest {
         Bytes twice = new Bytes().add(all).part(63, 14 + its.size() + 7, 0, 0).add(its)
                 .segment(94, 15, 0, 30).mark(147).end();
         twice.refused("22 twice in the last tile", 4, place);
-        StreamMarks x = all.part(63, 14 + its.size() + 5, 0, 0).add(its).segment(97, 0).mark(147)
-                .end().feed(new StreamMarks());
+        Counted x = all.part(63, 14 + its.size() + 5, 0, 0).add(its).segment(97, 0).mark(147)
+                .end().feed(new Counted());
         Check.same("22 scan", x.scan(), 0);
         Check.same("22 use(63)", x.use(63), 0);
         int[] due = {3, 2, 2, 9, 0, 1, 3, 30};
@@ -174,21 +174,21 @@ public final class TileTest {
         Check.refuses("22 use(64)", NONE, () -> x.use(64));
     }
 
-    private static StreamMarks tileHeads() {
-        StreamMarks x = new Bytes().main(3, 1)
+    private static Counted tileHeads() {
+        Counted x = new Bytes().main(3, 1)
                 .part(0, 14 + 7 + 5, 0, 0).segment(97, 0, 10, 11).segment(97, 1).mark(147)
                 .part(1, 14 + 8 + 1, 0, 0).segment(97, 0, 20, 21, 22).mark(147).u1(99)
                 .barePart(2, 0, 0)
                 .part(0, 14 + 6 + 6, 1, 0).segment(97, 2, 12).segment(100, 55, 56).mark(147)
                 .barePart(0, 2, 3)
                 .part(0, 0, 3, 0).segment(97, 3, 13, 255).mark(147).end()
-                .feed(new StreamMarks());
+                .feed(new Counted());
         Check.same("23 three of four parts", x.scan(), 6);
         return x;
     }
 
     private static void headsOfTiles() {
-        StreamMarks x = tileHeads();
+        Counted x = tileHeads();
         // The fifth part's count becomes 4.
         int fifth = 65 + 26 + 23 + 14 + 26;
         x.spoil(fifth + 11, 4);
@@ -197,7 +197,7 @@ public final class TileTest {
         checkHeads("23 of tiles", x, due);
     }
 
-    private static void checkHeads(String when, StreamMarks x, int[][] due) {
+    private static void checkHeads(String when, Counted x, int[][] due) {
         for (int tile = 0; tile < due.length; tile++) {
             int t = tile;
             Check.same(when + " use(" + t + ")", x.use(t), due[t].length);
@@ -211,16 +211,16 @@ public final class TileTest {
         }
     }
 
-    private static StreamMarks ofAll(int... heads) {
+    private static Counted ofAll(int... heads) {
         int cut = heads.length / 2;
         int[] first = new int[1 + cut];
         int[] second = new int[1 + heads.length - cut];
         second[0] = 1;
         System.arraycopy(heads, 0, first, 1, cut);
         System.arraycopy(heads, cut, second, 1, heads.length - cut);
-        StreamMarks x = new Bytes().start(2, 1).segment(96, first).coding().segment(96, second)
+        Counted x = new Bytes().start(2, 1).segment(96, first).coding().segment(96, second)
                 .steps().segment(96, 2).barePart(1, 0, 0).barePart(0, 0, 0).barePart(1, 1, 2).end()
-                .feed(new StreamMarks());
+                .feed(new Counted());
         Check.same("23 scan", x.scan(), 0);
         return x;
     }
@@ -249,20 +249,20 @@ public final class TileTest {
     }
 
     private static void headRefused() {
-        StreamMarks x = ofAll(0, 0, 0, 1, 3);
+        Counted x = ofAll(0, 0, 0, 1, 3);
         Check.refuses("23 tile 2", NONE, () -> x.head(2, 0));
         Check.refuses("23 tile -1", NONE, () -> x.head(-1, 0));
         Check.same("23 head", x.head(1, 0), 3);
         Check.same("23 plan stays", x.get(10, 0, 0), 1);
-        StreamMarks y = tileHeads();
+        Counted y = tileHeads();
         Check.refuses("23 refused, so not scanned", STATE, () -> y.head(0, 0));
         Check.refuses("23 not scanned first", STATE, () -> y.head(-1, -1));
     }
 
     private static void found() {
-        StreamMarks x = new Bytes().main(2, 1).barePart(1, 0, 2)
+        Counted x = new Bytes().main(2, 1).barePart(1, 0, 2)
                 .part(0, 14 + 5 + 3, 0, 0).segment(100, 1).mark(147).u1(1, 2, 3)
-                .part(1, 0, 1, 2).segment(97, 0).mark(147).u1(8, 9).end().feed(new StreamMarks());
+                .part(1, 0, 1, 2).segment(97, 0).mark(147).u1(8, 9).end().feed(new Counted());
         Check.same("24 scan", x.scan(), 0);
         int[][] due = {{1, 0, 2, 79, 0}, {0, 0, 0, 98, 3}, {1, 1, 2, 120, 2}};
         for (int round = 0; round < 2; round++) {
@@ -280,15 +280,15 @@ public final class TileTest {
             x.plan();
         }
         Check.same("24 the byte there", x.at(x.found(2, 3)), 8);
-        StreamMarks y = new Bytes().main(1, 1).barePart(0, 0, 0).barePart(0, 1, 2).end().u1(1, 2)
-                .feed(new StreamMarks());
+        Counted y = new Bytes().main(1, 1).barePart(0, 0, 0).barePart(0, 1, 2).end().u1(1, 2)
+                .feed(new Counted());
         Check.same("24 scan", y.scan(), 0);
         Check.same("24 parts told by itself", y.found(0, 2), 0);
         Check.same("24 parts told by the other", y.found(1, 2), 2);
     }
 
     private static void foundRefused() {
-        StreamMarks x = new Bytes().main(1, 1).barePart(0, 0, 0).end().feed(new StreamMarks());
+        Counted x = new Bytes().main(1, 1).barePart(0, 0, 0).end().feed(new Counted());
         Check.refuses("24 not scanned", STATE, () -> x.found(-1, 0));
         Check.refuses("24 not scanned first", STATE, () -> x.found(9, 9));
         x.scan();

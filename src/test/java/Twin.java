@@ -12,8 +12,8 @@ final class Twin {
     /** Of a longer stream the bytes at its ends are asked for, and some between. */
     private static final int FEW_BYTES = 400;
 
-    private record Question(String text, ToIntFunction<StreamMarks> ask) {
-        String answerOf(StreamMarks x) {
+    private record Question(String text, ToIntFunction<Counted> ask) {
+        String answerOf(Counted x) {
             try {
                 return String.valueOf(ask.applyAsInt(x));
             } catch (RuntimeException e) {
@@ -71,14 +71,14 @@ final class Twin {
     /** The call throws nothing, and the plan stays, and where the latest scan refused. */
     static void planAndPlaceStay(String what, Use call, Use state) {
         List<Question> all = aboutPlan(state);
-        all.add(new Question("place()", StreamMarks::place));
+        all.add(new Question("place()", Counted::place));
         compare(what, state, call, all);
     }
 
     private static void compare(String what, Use state, Use call, List<Question> all) {
         for (int first = 0; first < all.size(); first += AT_A_TIME) {
-            StreamMarks one = Made.with(state);
-            StreamMarks other = Made.with(state);
+            Counted one = Made.with(state);
+            Counted other = Made.with(state);
             call.on(one);
             for (int i = first; i < first + AT_A_TIME && i < all.size(); i++) {
                 String got = all.get(i).answerOf(one);
@@ -94,7 +94,7 @@ final class Twin {
 
     private static List<Question> aboutPlan(Use state) {
         List<Question> all = new ArrayList<>();
-        StreamMarks seen = Made.with(state);
+        Counted seen = Made.with(state);
         for (int what = 0; what <= 14; what++) {
             askGet(all, what, 0, 0);
         }
@@ -136,9 +136,9 @@ final class Twin {
 
     private static List<Question> aboutScan(Use state) {
         List<Question> all = new ArrayList<>();
-        all.add(new Question("place()", StreamMarks::place));
+        all.add(new Question("place()", Counted::place));
         all.add(new Question("found(-1, 0)", x -> x.found(-1, 0)));
-        StreamMarks seen = Made.with(state);
+        Counted seen = Made.with(state);
         int parts = new Question("", x -> x.found(-1, 0)).answerOf(seen).matches("\\d+")
                 ? seen.found(-1, 0) : 0;
         for (int k = 0; k < parts; k++) {
@@ -154,7 +154,7 @@ final class Twin {
     /** These come last: use() makes the plan another one. */
     private static List<Question> aboutTiles(Use state) {
         List<Question> all = new ArrayList<>();
-        StreamMarks seen = Made.with(state);
+        Counted seen = Made.with(state);
         for (int t = 0; t <= 64; t++) {
             int tile = t;
             Question use = new Question("use(" + t + ")", x -> x.use(tile));
