@@ -79,6 +79,7 @@ public final class FaceTest {
 
     private static void members() {
         Check.yes("final", Modifier.isFinal(StreamMarks.class.getModifiers()));
+        Check.yes("public", Modifier.isPublic(StreamMarks.class.getModifiers()));
         Constructor<?>[] made = StreamMarks.class.getDeclaredConstructors();
         Check.same("constructors", made.length, 1);
         Check.yes("public", Modifier.isPublic(made[0].getModifiers()));
@@ -107,6 +108,15 @@ public final class FaceTest {
         }
     }
 
+    private static boolean isNameOfFace(String name) {
+        for (Method m : Face.class.getMethods()) {
+            if (m.getName().equals(name)) {
+                return true;
+            }
+        }
+        return false;
+    }
+
     private static void classesInside() {
         for (Class<?> c : StreamMarks.class.getDeclaredClasses()) {
             Check.yes("static " + c, Modifier.isStatic(c.getModifiers()));
@@ -115,6 +125,9 @@ public final class FaceTest {
             for (Field f : c.getDeclaredFields()) {
                 boolean ofClass = Modifier.isStatic(f.getModifiers());
                 Check.yes("constant " + f, !ofClass || Modifier.isFinal(f.getModifiers()));
+            }
+            for (Method m : c.getDeclaredMethods()) {
+                Check.yes("a name of its own: " + m, !isNameOfFace(m.getName()));
             }
         }
     }

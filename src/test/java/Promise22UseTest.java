@@ -60,22 +60,36 @@ public final class Promise22UseTest {
         Twin.none("use(-1)", x -> x.use(-1), one);
     }
 
+    /** Parts of 64 tiles, and in that of the last one these segments. */
+    private static Bytes ofTile63(Bytes own) {
+        Bytes all = new Bytes().main(64, 1);
+        for (int t = 0; t < 63; t++) {
+            all.barePart(t, 0, 1);
+        }
+        return all.part(63, 14 + own.size(), 0, 1).add(own).mark(147).end();
+    }
+
     static void theLastOf64Tiles() {
-        Use many = x -> {
-            Bytes all = new Bytes().main(64, 1);
-            for (int t = 0; t < 63; t++) {
-                all.barePart(t, 0, 1);
-            }
-            all.part(63, 21, 0, 1).segment(94, 0, 0, 29).mark(147).end().feed(x);
-            x.scan();
-        };
-        Counted x = Made.with(many);
+        Counted x = ofTile63(new Bytes().segment(94, 0, 0, 29)).feed(new Counted());
+        Check.same("scan", x.scan(), 0);
         Check.same("use(63)", x.use(63), 0);
         Check.same("its shift", x.get(31, 0, 0), 29);
         Check.same("use(62)", x.use(62), 0);
         Check.same("its shift", x.get(31, 0, 0), 0);
         Check.refuses("use(64)", NoSuchElementException.class, () -> x.use(64));
         Check.same("stays", x.get(31, 0, 0), 0);
+    }
+
+    /** Its segments are not there twice in a second scan, and gone with the stream. */
+    static void theLastOf64TilesAgain() {
+        Counted x = ofTile63(new Bytes().segment(94, 0, 0, 29).coding().steps().segment(95))
+                .feed(new Counted());
+        Check.same("scan", x.scan(), 0);
+        Check.same("scan again", x.scan(), 0);
+        ofTile63(new Bytes()).feed(x);
+        Check.same("scan of another one", x.scan(), 0);
+        Check.same("use(63)", x.use(63), 0);
+        Check.same("its shift", x.get(31, 0, 0), 0);
     }
 
     /** The tiles are those of the stream, whatever the plan is now. */
